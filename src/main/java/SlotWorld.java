@@ -140,10 +140,17 @@ public final class SlotWorld {
     private static final int LITERAL = -2;
     private static final int CARET = -3;
 
+    // What is to be done next for the process at work: a turn does one after the other.
     private static final int STEP = 0;
     private static final int SEND = 1;
-    private static final int DO_ACT = 2;
-    private static final int FAIL = 3;
+    private static final int USE = 2;
+    private static final int PASS = 3;
+    private static final int DO_ACT = 4;
+    private static final int FAIL = 5;
+    private static final int STOP = 6;
+    private static final int LEAVE = 7;
+    private static final int THROUGH = 8;
+    private static final int ENDS = 9;
 
     private static final String SIGNS = "+-*/%<>=&~!@,?";
     private static final String SINGLES = "()[]{}|.:^";
@@ -293,20 +300,21 @@ public final class SlotWorld {
         }
         int done = 0;
         int phase = STEP;
-        for (int k = 0; k < LONG_RUN && done < n && (tasks.ready > 0 || machine.unit); k++) {
+        for (int k = 0; k < LONG_RUN && done < n && tasks.ready > 0; k++) {
             switch (phase) {
-                case SEND:
-                    phase = machine.deliver();
+                case SEND: phase = machine.deliver(); break;
+                case USE: phase = machine.useSlot(); break;
+                case PASS: phase = machine.passUnknown(); break;
+                case DO_ACT: phase = acts.act(); break;
+                case FAIL: phase = machine.giveReason(); break;
+                case STOP: phase = machine.stop(); break;
+                case LEAVE: phase = machine.leave(); break;
+                case THROUGH: phase = machine.through(); break;
+                case ENDS:
+                    tasks.end(machine.task, machine.given);
+                    phase = STEP;
                     break;
-                case DO_ACT:
-                    phase = acts.act();
-                    break;
-                case FAIL:
-                    phase = machine.giveReason();
-                    break;
-                default:
-                    phase = machine.step();
-                    break;
+                default: phase = machine.step(); break;
             }
             if (phase == STEP && machine.unit) {
                 machine.closeUnit();
@@ -320,8 +328,9 @@ public final class SlotWorld {
         if (!heap.isSort(p, PROCESS)) {
             return -1;
         }
-        Task task = tasks.taskOf(p);
-        boolean open = task.object == p;
+        int i = tasks.indexOf(p);
+        boolean open = i >= 0;
+        Task task = tasks.all[Math.max(0, i)];
         boolean stopped = open && task.state == STOPPED;
         switch (what) {
             case 0: return open ? task.state : ENDED;
@@ -336,37 +345,34 @@ public final class SlotWorld {
     }
 
     public long answer(int p, int what) {
-        if (!heap.isSort(p, PROCESS)) {
-            return -1;
+        int i = tasks.indexOf(p);
+        if (what == 0 && heap.isSort(p, PROCESS)) {
+            return i < 0 ? heap.at(p, 0) : NIL;
         }
-        Task task = tasks.taskOf(p);
-        boolean open = task.object == p;
-        if (what == 0) {
-            return open ? NIL : heap.at(p, 0);
-        }
-        if (!open || task.state != STOPPED) {
+        if (i < 0 || tasks.all[i].state != STOPPED) {
             return -1;
         }
         if (what == 1) {
-            return task.erredTo;
+            return tasks.all[i].erredTo;
         }
-        return what == 2 ? task.told : -1;
+        return what == 2 ? tasks.all[i].told : -1;
     }
 
     public long erred(int p, int k) {
-        Task task = tasks.taskOf(p);
-        return task.object == p && task.state == STOPPED ? task.erredName.eight(k) : 0;
+        int i = tasks.indexOf(p);
+        return i >= 0 && tasks.all[i].state == STOPPED ? tasks.all[i].erredName.eight(k) : 0;
     }
 
     public int frame(int p, int i, int what) {
-        Task task = tasks.taskOf(p);
-        if (task.object != p || i < 0 || i >= task.depth) {
+        int at = tasks.indexOf(p);
+        if (at < 0 || i < 0 || i >= tasks.all[at].depth) {
             return -1;
         }
-        int o = task.activation(task.depth - 1 - i);
+        int o = tasks.all[at].activation(tasks.all[at].depth - 1 - i);
+        long self = heap.selfOf(o);
         switch (what) {
             case 0: return o;
-            case 1: return isWhole(heap.selfOf(o)) ? -1 : (int) heap.selfOf(o);
+            case 1: return isWhole(self) ? -1 : (int) self;
             case 2: return heap.holderOf(o);
             case 3: return program.op(heap.bodyOf(o));
             default: return -1;
@@ -374,11 +380,11 @@ public final class SlotWorld {
     }
 
     public boolean mend(int p, long value) {
-        Task task = tasks.taskOf(p);
-        if (task.object != p || task.state != STOPPED || !heap.isValue(value)) {
+        int i = tasks.indexOf(p);
+        if (i < 0 || tasks.all[i].state != STOPPED || !heap.isValue(value)) {
             return false;
         }
-        tasks.goOn(task, value);
+        tasks.goOn(tasks.all[i], value);
         return true;
     }
 
@@ -396,7 +402,7 @@ public final class SlotWorld {
     }
 
     public int slot(int o, int i) {
-        return heap.hasSlot(o, i) ? heap.kind(o, i) : -1;
+        return heap.kind(o, i);
     }
 
     public long value(int o, int i) {
@@ -583,9 +589,16 @@ public final class SlotWorld {
             return bytes;
         }
 
+        boolean has(int start, int n) {
+            return start >= 0 && n >= 0 && start <= size - n;
+        }
+
         boolean same(int start, Bytes other, int otherStart, int n) {
+            if (!has(start, n) || !other.has(otherStart, n)) {
+                return false;
+            }
             for (int i = 0; i < n; i++) {
-                if (at(start + i) != other.at(otherStart + i)) {
+                if (row[start + i] != other.row[otherStart + i]) {
                     return false;
                 }
             }
@@ -594,8 +607,8 @@ public final class SlotWorld {
 
         int mix(int start, int n) {
             int mixed = n;
-            for (int i = 0; i < n; i++) {
-                mixed = mixed * 31 + at(start + i);
+            for (int i = 0; i < n && has(start, n); i++) {
+                mixed = mixed * 31 + row[start + i];
             }
             return mixed & 255;
         }
@@ -617,26 +630,33 @@ public final class SlotWorld {
         final int[] next = new int[SYMBOL_ROOM];
         final int[] base = new int[SYMBOL_ROOM];
         final int[] parts = new int[SYMBOL_ROOM];
-        final int[] acting = new int[SYMBOL_ROOM];
+        private final boolean[] fails = new boolean[SYMBOL_ROOM];
         final int[] heads = new int[256];
         int symbols;
         final int[] code = new int[CODE_ROOM];
         int end;
         final Bytes letters = new Bytes(LETTER_ROOM);
         final Bytes scratch = new Bytes(64);
+        private final int firstAct;
 
         Program() {
             for (int i = 0; i < heads.length; i++) {
                 heads[i] = -1;
             }
             for (int k = 0; k <= ENSURE; k++) {
-                wordSymbol(HOUSE, k);
+                wordSymbol(HOUSE, k, "");
+            }
+            firstAct = symbols;
+            for (int k = 0; k < ACT_SIGNAL; k++) {
+                wordSymbol(ACTS, k, "");
+                wordSymbol(ACTS, k, IF_FAIL);
             }
         }
 
-        int wordSymbol(String words, int k) {
+        int wordSymbol(String words, int k, String behind) {
             scratch.size = 0;
             scratch.putWord(words, k);
+            scratch.putText(behind);
             return symbol(scratch, 0, scratch.size);
         }
 
@@ -662,7 +682,6 @@ public final class SlotWorld {
                 int x = known(from, at, n - 1);
                 base[s] = x < 0 ? add(from, at, n - 1) : x;
             }
-            acting[s] = actOf(s);
             return s;
         }
 
@@ -688,50 +707,45 @@ public final class SlotWorld {
             next[s] = heads[head];
             heads[head] = s;
             base[s] = -1;
-            acting[s] = -1;
             parts[s] = countParts(from, at, n);
+            fails[s] = endsInIfFail(from, at, n)
+                && (parts[s] == 1 || from.at(at + n - IF_FAIL.length() - 1) == ':');
             symbols++;
             return s;
         }
 
-        int countParts(Bytes from, int at, int n) {
+        private int countParts(Bytes from, int at, int n) {
             if (n > 0 && SIGNS.indexOf((char) from.at(at)) >= 0) {
                 return 1;
             }
             int keys = 0;
             for (int i = 0; i < n; i++) {
-                if (from.at(at + i) == ':') {
-                    keys++;
-                }
+                keys += from.at(at + i) == ':' ? 1 : 0;
             }
             return keys;
         }
 
-        /** -1 for what is no act, else twice its number (0: no such one), and 1 with IfFail: . */
-        private int actOf(int s) {
-            int from = start[s];
-            int n = length[s];
-            if (names.at(from) != '_') {
-                return -1;
-            }
+        private boolean endsInIfFail(Bytes from, int at, int n) {
             int cut = n - IF_FAIL.length();
-            boolean fails = cut > 0 && (parts[s] == 1 || names.at(from + cut - 1) == ':');
-            for (int i = 0; fails && i < IF_FAIL.length(); i++) {
-                fails = names.at(from + cut + i) == IF_FAIL.charAt(i);
+            boolean ends = cut > 0;
+            for (int i = 0; ends && i < IF_FAIL.length(); i++) {
+                ends = from.at(at + cut + i) == IF_FAIL.charAt(i);
             }
-            int number = actNumber(from, fails ? cut : n);
-            return number * 2 + (fails ? 1 : 0);
+            return ends;
         }
 
-        private int actNumber(int from, int n) {
-            for (int k = 0; k < ACT_SIGNAL; k++) {
-                scratch.size = 0;
-                scratch.putWord(ACTS, k);
-                if (scratch.size == n && scratch.same(0, names, from, n)) {
-                    return k + 1;
-                }
-            }
-            return 0;
+        boolean isAct(int s) {
+            return s >= 0 && s < symbols && names.at(start[s]) == '_';
+        }
+
+        /** The number of an act, with IfFail: or without; 0 if there is no such one. */
+        int actOf(int s) {
+            int k = s - firstAct;
+            return k >= 0 && k < 2 * ACT_SIGNAL ? k / 2 + 1 : 0;
+        }
+
+        boolean failsToBlock(int s) {
+            return s >= 0 && s < symbols && fails[s];
         }
 
         int baseOf(int s) {
@@ -740,10 +754,6 @@ public final class SlotWorld {
 
         int partsOf(int s) {
             return s >= 0 && s < symbols ? parts[s] : 0;
-        }
-
-        int actingOf(int s) {
-            return s >= 0 && s < symbols ? acting[s] : -1;
         }
 
         void putName(Bytes to, int s) {
@@ -819,69 +829,103 @@ public final class SlotWorld {
 
     /** The words of a text; each goes behind the letters too, blanks and notes as one blank. */
     private static final class Words {
+        final Program program;
         final Bytes tape;
-        final Bytes letters;
-        int length;
-        int pos;
-        int kind;
-        int place;
-        int mark;
-        int number;
-        int many;
+        private final int[] kinds = new int[TEXT_WORDS + 2];
+        private final int[] places = new int[TEXT_WORDS + 2];
+        private final int[] sizes = new int[TEXT_WORDS + 2];
+        private final int[] marks = new int[TEXT_WORDS + 2];
+        private final int[] tells = new int[TEXT_WORDS + 2];
+        private int length;
+        private int pos;
+        private int number;
+        int at;
 
-        Words(Bytes tape, Bytes letters) {
+        Words(Program program, Bytes tape) {
+            this.program = program;
             this.tape = tape;
-            this.letters = letters;
         }
 
-        void begin(int n) {
+        /** Finds all words up to the end, or up to what is none, or up to one too many. */
+        void split(int n) {
             length = n;
             pos = 0;
-            many = 0;
-            advance();
+            at = 0;
+            int kind = NAME;
+            for (int k = 0; k < kinds.length && kind != END && kind != BAD; k++) {
+                int from = pos;
+                skipBlanks();
+                if (pos > from) {
+                    program.letters.put(' ');
+                }
+                int place = pos;
+                int mark = program.letters.size;
+                kind = scan(byteAt(pos));
+                program.letters.putPart(tape, place, pos - place);
+                kinds[k] = kind;
+                places[k] = place;
+                sizes[k] = pos - place;
+                marks[k] = mark;
+                int named = nameSize(kind, pos - place);
+                tells[k] = named > 0 ? program.symbol(program.letters, mark, named) : number;
+            }
+        }
+
+        /** How many bytes of a word are a name or sign of its own. */
+        private int nameSize(int kind, int size) {
+            if (kind == NAME || kind == ACT || kind == SIGN && size <= SELECTOR) {
+                return size;
+            }
+            return kind == TO ? size - 1 : 0;
         }
 
         void advance() {
-            int from = pos;
-            skipBlanks();
-            if (pos > from) {
-                letters.put(' ');
-            }
-            place = pos;
-            mark = letters.size;
-            kind = scan(at(pos));
-            letters.putPart(tape, place, pos - place);
-            if (kind != END) {
-                many++;
-            }
+            at = Math.min(at + 1, kinds.length - 1);
+        }
+
+        int kind() {
+            return kinds[at];
+        }
+
+        int place() {
+            return places[at];
         }
 
         int size() {
-            return pos - place;
+            return sizes[at];
         }
 
-        boolean isSign(String sign) {
-            if (kind != SIGN || size() != sign.length()) {
-                return false;
-            }
-            for (int i = 0; i < sign.length(); i++) {
-                if (letters.at(mark + i) != sign.charAt(i)) {
-                    return false;
-                }
-            }
-            return true;
+        int mark() {
+            return marks[at];
         }
 
-        private int at(int i) {
+        int told() {
+            return tells[at];
+        }
+
+        /** How many words there are up to the one at hand, with that. */
+        int many() {
+            return kinds[at] == END ? at : at + 1;
+        }
+
+        boolean is(String word) {
+            boolean like = sizes[at] == word.length();
+            for (int i = 0; like && i < word.length(); i++) {
+                like = program.letters.at(marks[at] + i) == word.charAt(i);
+            }
+            return like;
+        }
+
+        private int byteAt(int i) {
             return i >= 0 && i < length ? tape.at(i) : 0;
         }
 
         private void skipBlanks() {
             for (int k = 0; k <= TAPE && pos < length; k++) {
-                int c = at(pos);
+                int c = byteAt(pos);
                 if (c == '"') {
                     int close = pos + 1;
-                    while (close < length && at(close) != '"') {
+                    while (close < length && byteAt(close) != '"') {
                         close++;
                     }
                     if (close >= length) {
@@ -909,33 +953,33 @@ public final class SlotWorld {
             if (c >= '0' && c <= '9') {
                 return scanNumber();
             }
-            if (c == '_' && at(pos + 1) >= 'A' && at(pos + 1) <= 'Z') {
+            if (c == '_' && byteAt(pos + 1) >= 'A' && byteAt(pos + 1) <= 'Z') {
                 pos = nameEnd();
                 return colon() ? ACTKEY : ACT;
             }
             if (c == '\'') {
                 return scanString();
             }
-            if (c != 0 && SIGNS.indexOf((char) c) >= 0) {
-                while (pos < length && at(pos) != 0 && SIGNS.indexOf((char) at(pos)) >= 0) {
+            if (SIGNS.indexOf((char) c) >= 0) {
+                while (pos < length && SIGNS.indexOf((char) byteAt(pos)) >= 0) {
                     pos++;
                 }
                 return SIGN;
             }
             pos++;
-            return c != 0 && SINGLES.indexOf((char) c) >= 0 ? c : BAD;
+            return SINGLES.indexOf((char) c) >= 0 ? c : BAD;
         }
 
         private int nameEnd() {
             int e = pos;
-            while (e < length && e - pos < 16 && isNameByte(at(e))) {
+            while (e < length && e - pos < 16 && isNameByte(byteAt(e))) {
                 e++;
             }
             return e;
         }
 
         private boolean colon() {
-            if (at(pos) != ':') {
+            if (byteAt(pos) != ':') {
                 return false;
             }
             pos++;
@@ -950,7 +994,7 @@ public final class SlotWorld {
             if (colon()) {
                 return self || resend ? BAD : KEY;
             }
-            if (at(pos) == '.' && at(pos + 1) >= 'a' && at(pos + 1) <= 'z') {
+            if (byteAt(pos) == '.' && byteAt(pos + 1) >= 'a' && byteAt(pos + 1) <= 'z') {
                 pos++;
                 return self ? BAD : TO;
             }
@@ -961,40 +1005,36 @@ public final class SlotWorld {
         }
 
         private boolean isTold(String word, int from) {
-            if (pos - from != word.length()) {
-                return false;
+            boolean like = pos - from == word.length();
+            for (int i = 0; like && i < word.length(); i++) {
+                like = byteAt(from + i) == word.charAt(i);
             }
-            for (int i = 0; i < word.length(); i++) {
-                if (at(from + i) != word.charAt(i)) {
-                    return false;
-                }
-            }
-            return true;
+            return like;
         }
 
         private int scanNumber() {
             long told = 0;
-            while (pos < length && at(pos) >= '0' && at(pos) <= '9') {
+            while (pos < length && byteAt(pos) >= '0' && byteAt(pos) <= '9') {
                 if (told <= Integer.MAX_VALUE) {
-                    told = told * 10 + at(pos) - '0';
+                    told = told * 10 + byteAt(pos) - '0';
                 }
                 pos++;
             }
             number = (int) told;
-            return told > Integer.MAX_VALUE || isNameByte(at(pos)) ? BAD : NUMBER;
+            return told > Integer.MAX_VALUE || isNameByte(byteAt(pos)) ? BAD : NUMBER;
         }
 
         private int scanString() {
             pos++;
             for (int n = 0; n <= ROW && pos < length; n++) {
-                int c = at(pos);
+                int c = byteAt(pos);
                 if (c == '\'') {
                     pos++;
                     return QUOTED;
                 }
                 if (c == '\\') {
                     pos++;
-                    int d = at(pos);
+                    int d = byteAt(pos);
                     if (d != 'n' && d != '\'' && d != '\\') {
                         return BAD;
                     }
@@ -1030,7 +1070,7 @@ public final class SlotWorld {
 
         Reader(Program program, Bytes tape) {
             this.program = program;
-            this.words = new Words(tape, program.letters);
+            this.words = new Words(program, tape);
         }
 
         void forget() {
@@ -1051,18 +1091,20 @@ public final class SlotWorld {
             scopes = 0;
             slotTop = 0;
             selectors.size = 0;
-            words.begin(n);
+            words.split(n);
             int body = beginBody(TEXT_BODY);
             inner(body, END);
             endBody(body);
-            if (allWords + words.many > ALL_WORDS || allLetters + textLetters > ALL_LETTERS) {
+            if (allWords + words.many() > ALL_WORDS || allLetters + textLetters > ALL_LETTERS) {
                 fail(CODE);
             }
             if (faultNumber != 0) {
+                // Behind a fault no word was taken: the one at hand is the one of the fault.
+                faultPlace = words.place();
                 program.cutBack(symbols, names, end, letters);
                 return -1;
             }
-            allWords += words.many;
+            allWords += words.many();
             allLetters += textLetters;
             return body;
         }
@@ -1071,13 +1113,11 @@ public final class SlotWorld {
             if (faultNumber != 0) {
                 return;
             }
-            boolean beyond = words.kind != END && words.many > TEXT_WORDS;
-            faultNumber = beyond && number > ROOM ? ROOM : number;
-            faultPlace = words.place;
+            faultNumber = number > ROOM && words.at >= TEXT_WORDS && number != CODE ? ROOM : number;
         }
 
         private void next() {
-            if (words.many > TEXT_WORDS) {
+            if (words.at >= TEXT_WORDS) {
                 fail(ROOM);
             }
             if (faultNumber == 0) {
@@ -1086,7 +1126,7 @@ public final class SlotWorld {
         }
 
         private boolean at(int kind) {
-            return faultNumber == 0 && words.kind == kind;
+            return faultNumber == 0 && words.kind() == kind;
         }
 
         private boolean take(int kind) {
@@ -1098,12 +1138,16 @@ public final class SlotWorld {
             return true;
         }
 
+        private boolean atSign(String sign) {
+            return faultNumber == 0 && words.kind() == SIGN && words.is(sign);
+        }
+
         private boolean takeSign(String sign) {
-            if (faultNumber != 0 || !words.isSign(sign)) {
-                return false;
+            boolean there = atSign(sign);
+            if (there) {
+                next();
             }
-            next();
-            return true;
+            return there;
         }
 
         private void takeOpening() {
@@ -1112,10 +1156,6 @@ public final class SlotWorld {
             }
             open++;
             next();
-        }
-
-        private int wordSymbol(int without) {
-            return program.symbol(program.letters, words.mark, words.size() - without);
         }
 
         private int beginBody(int kind) {
@@ -1140,7 +1180,7 @@ public final class SlotWorld {
         private void inner(int body, int closer) {
             if (at('|')) {
                 next();
-                for (int k = 0; k <= TEXT_WORDS && faultNumber == 0 && words.kind != '|'; k++) {
+                for (int k = 0; k <= TEXT_WORDS && faultNumber == 0 && !at('|'); k++) {
                     cell(body);
                     if (!at('.') && !at('|')) {
                         fail(SYNTAX);
@@ -1184,10 +1224,10 @@ public final class SlotWorld {
                 return;
             }
             boolean minus = takeSign("-");
+            int told = words.told();
             if (take(NUMBER)) {
-                int last = program.end - CELL;
-                program.patch(last + 1, 1);
-                program.patch(last + 2, minus ? -words.number : words.number);
+                program.patch(program.end - 2, 1);
+                program.patch(program.end - 1, minus ? -told : told);
             }
         }
 
@@ -1201,7 +1241,7 @@ public final class SlotWorld {
             if (cells >= CELLS || argument && arguments >= ARGUMENTS) {
                 fail(ROOM);
             }
-            int name = wordSymbol(0);
+            int name = words.told();
             if (cellIn(body, name) >= 0) {
                 fail(TWICE);
             }
@@ -1277,13 +1317,9 @@ public final class SlotWorld {
         }
 
         private int takeTo() {
-            int name = wordSymbol(1);
-            boolean resend = words.size() == 7 && program.length[name] == 6;
-            for (int i = 0; resend && i < 6; i++) {
-                resend = program.letters.at(words.mark + i) == "resend".charAt(i);
-            }
+            int name = words.is("resend.") ? RESEND : words.told();
             next();
-            return resend ? RESEND : name;
+            return name;
         }
 
         private void emitSend(int to, int symbol) {
@@ -1304,14 +1340,14 @@ public final class SlotWorld {
                 fail(ROOM);
                 return false;
             }
-            selectors.putPart(program.letters, words.mark, words.size());
+            selectors.putPart(program.letters, words.mark(), words.size());
             return true;
         }
 
         private void message(int to, boolean toNothing) {
             int from = selectors.size;
             boolean change = toNothing && at(KEY)
-                && seeCell(program.known(program.letters, words.mark, words.size() - 1)) && !cellIsArgument;
+                && seeCell(program.known(program.letters, words.mark(), words.size() - 1)) && !cellIsArgument;
             int hops = cellHops;
             int index = cellIndex;
             addPart(from, 1);
@@ -1344,7 +1380,7 @@ public final class SlotWorld {
                     fail(ROOM);
                     return;
                 }
-                int sign = wordSymbol(0);
+                int sign = words.told();
                 if (first >= 0 && sign != first) {
                     fail(UNLIKE);
                 }
@@ -1362,7 +1398,7 @@ public final class SlotWorld {
                 directed(to);
             }
             for (int k = 0; k <= TEXT_WORDS && (at(NAME) || at(ACT)); k++) {
-                emitSend(NO_TO, wordSymbol(0));
+                emitSend(NO_TO, words.told());
                 next();
             }
         }
@@ -1373,7 +1409,7 @@ public final class SlotWorld {
                 return;
             }
             program.emit(DO_SELF);
-            emitSend(to, wordSymbol(0));
+            emitSend(to, words.told());
             next();
         }
 
@@ -1381,7 +1417,7 @@ public final class SlotWorld {
             if (faultNumber != 0) {
                 return;
             }
-            switch (words.kind) {
+            switch (words.kind()) {
                 case NUMBER: case SIGN: number(); break;
                 case QUOTED: quoted(); break;
                 case NAME: case ACT: name(); break;
@@ -1404,7 +1440,7 @@ public final class SlotWorld {
 
         private void number() {
             boolean minus = takeSign("-");
-            int told = words.number;
+            int told = words.told();
             if (take(NUMBER)) {
                 program.emit(DO_WHOLE);
                 program.emit(minus ? -told : told);
@@ -1413,13 +1449,13 @@ public final class SlotWorld {
 
         private void quoted() {
             program.emit(DO_STRING);
-            program.emit(words.mark + 1);
+            program.emit(words.mark() + 1);
             program.emit(words.size() - 2);
             next();
         }
 
         private void name() {
-            int symbol = wordSymbol(0);
+            int symbol = words.told();
             if (at(NAME) && seeCell(symbol)) {
                 program.emit(DO_CELL);
                 program.emit(cellHops);
@@ -1444,7 +1480,7 @@ public final class SlotWorld {
         private void braces() {
             int from = slotTop;
             takeOpening();
-            for (int k = 0; k <= SLOTS && faultNumber == 0 && words.kind != '}'; k++) {
+            for (int k = 0; k <= SLOTS && faultNumber == 0 && !at('}'); k++) {
                 aSlot(from);
                 if (!at('.') && !at('}')) {
                     fail(SYNTAX);
@@ -1478,11 +1514,11 @@ public final class SlotWorld {
         }
 
         private void namedSlot(int from) {
-            int name = wordSymbol(0);
-            int mark = words.mark;
+            int name = words.told();
+            int mark = words.mark();
             next();
             int parent = takeSign("*") ? PARENT : 0;
-            if (faultNumber == 0 && words.isSign("=")) {
+            if (atSign("=")) {
                 newSlot(from, name, CONSTANT + parent);
                 next();
                 if (parent == 0 && at('(')) {
@@ -1491,7 +1527,7 @@ public final class SlotWorld {
                 } else {
                     slotValue();
                 }
-            } else if (faultNumber == 0 && words.isSign("<-")) {
+            } else if (atSign("<-")) {
                 newSlot(from, name, ASSIGNABLE + parent);
                 next();
                 slotValue();
@@ -1504,7 +1540,7 @@ public final class SlotWorld {
         }
 
         private void methodSlot(int from) {
-            int mark = words.mark;
+            int mark = words.mark();
             int start = selectors.size;
             boolean keys = at(KEY);
             program.emit(DO_METHOD);
@@ -1521,7 +1557,7 @@ public final class SlotWorld {
                 }
                 newCell(body, true);
             }
-            if (faultNumber != 0 || !words.isSign("=")) {
+            if (!atSign("=")) {
                 fail(SYNTAX);
                 return;
             }
@@ -1562,7 +1598,7 @@ public final class SlotWorld {
             takeOpening();
             inner(body, ')');
             endBody(body);
-            int told = program.letters.size - mark;
+            int told = words.mark() + words.size() - mark;
             program.patch(body + BODY_LETTERS, mark);
             program.patch(body + BODY_LENGTH, told);
             textLetters += told;
@@ -1573,14 +1609,14 @@ public final class SlotWorld {
         /** A number or a string alone gives itself; every other e of a slot is a body. */
         private void slotValue() {
             int start = program.end;
-            int before = words.many;
-            boolean minus = words.isSign("-");
+            int before = words.at;
+            boolean minus = atSign("-");
             boolean literal = at(NUMBER) || at(QUOTED);
             program.emit(DO_SLOT);
             int body = beginBody(SLOT_BODY);
             expression();
             endBody(body);
-            int told = words.many - before;
+            int told = words.at - before;
             if (literal && told == 1 || minus && told == 2) {
                 int width = program.width(body + HEAD);
                 for (int i = 0; i < width; i++) {
@@ -1605,7 +1641,7 @@ public final class SlotWorld {
         final int[] body;
         private final long[] data;
         private final int[] selectors;
-        private final int[] kinds;
+        final int[] kinds;
         final int[] nextString;
         final int[] strings = new int[256];
 
@@ -1649,7 +1685,7 @@ public final class SlotWorld {
         }
 
         void free(int o) {
-            if (lives(o)) {
+            if (o >= 0 && o < limit && sort[o] != FREE) {
                 sort[o] = FREE;
                 live--;
                 low = Math.min(low, o);
@@ -1686,16 +1722,12 @@ public final class SlotWorld {
             }
         }
 
-        private boolean hasRow(int o, int i) {
-            return o >= 0 && o < limit && i >= 0 && i < ROW;
-        }
-
         long at(int o, int i) {
-            return hasRow(o, i) ? data[o * ROW + i] : NIL;
+            return o >= 0 && o < limit && i >= 0 && i < ROW ? data[o * ROW + i] : NIL;
         }
 
         void set(int o, int i, long v) {
-            if (hasRow(o, i)) {
+            if (o >= 0 && o < limit && i >= 0 && i < ROW) {
                 data[o * ROW + i] = v;
             }
         }
@@ -1721,7 +1753,7 @@ public final class SlotWorld {
         }
 
         boolean hasSlot(int o, int i) {
-            return isSort(o, PLAIN) && i >= 0 && i < size[o] && i < SLOTS;
+            return o >= 0 && o < limit && sort[o] == PLAIN && i >= 0 && i < size[o] && i < SLOTS;
         }
 
         int kind(int o, int i) {
@@ -1757,17 +1789,42 @@ public final class SlotWorld {
         }
 
         int slotNamed(int o, int name) {
-            for (int i = 0; i < SLOTS && hasSlot(o, i); i++) {
+            int n = o >= 0 && o < limit && sort[o] == PLAIN ? Math.min(SLOTS, size[o]) : 0;
+            for (int i = 0; i < n; i++) {
                 if (selectors[o * SLOTS + i] == name) {
                     return i;
                 }
             }
             return -1;
         }
+
+        /** The slot of o that is for this selector; base is x if that is x: , else -1. */
+        int slotFor(int o, int name, int base) {
+            int i = name >= 0 ? slotNamed(o, name) : -1;
+            if (i >= 0 || base < 0) {
+                return i;
+            }
+            i = slotNamed(o, base);
+            return i >= 0 && (kinds[o * SLOTS + i] & 3) == ASSIGNABLE ? i : -1;
+        }
+
+        /** Puts a string where those of like bytes are looked for. */
+        void chain(int o) {
+            int n = o >= 0 && o < limit && sort[o] == STRING ? Math.min(ROW, size[o]) : -1;
+            int mixed = n;
+            for (int i = 0; i < n; i++) {
+                mixed = mixed * 31 + (int) data[o * ROW + i];
+            }
+            if (n >= 0) {
+                nextString[o] = strings[mixed & 255];
+                strings[mixed & 255] = o;
+            }
+        }
     }
 
     /** What a process that has not ended is at: its activations, and what it is working out. */
     private static final class Task {
+        final int index;
         int object = -1;
         int state;
         int units;
@@ -1789,6 +1846,10 @@ public final class SlotWorld {
         private final int[] places = new int[DEEPEST];
         private final int[] bases = new int[DEEPEST];
         private final long[] stack = new long[STACK];
+
+        Task(int index) {
+            this.index = index;
+        }
 
         void begin(int newObject, int newBody, int newBlock) {
             object = newObject;
@@ -1882,7 +1943,7 @@ public final class SlotWorld {
         Tasks(Heap heap) {
             this.heap = heap;
             for (int i = 0; i < TASKS; i++) {
-                all[i] = new Task();
+                all[i] = new Task(i);
             }
         }
 
@@ -1890,18 +1951,10 @@ public final class SlotWorld {
             return all[row[0]];
         }
 
-        /** The task of process p; of what is no process that has not ended, one with another object. */
-        Task taskOf(int p) {
+        /** Which task process p is, or -1 for one that has ended and for what is no process. */
+        int indexOf(int p) {
             int i = heap.isSort(p, PROCESS) ? heap.homeOf(p) : -1;
-            if (i >= 0 && i < TASKS) {
-                return all[i];
-            }
-            for (int k = 1; k < TASKS; k++) {
-                if (all[k].object != p) {
-                    return all[k];
-                }
-            }
-            return all[0];
+            return i < TASKS ? i : -1;
         }
 
         int placeOf(Task task) {
@@ -1926,10 +1979,9 @@ public final class SlotWorld {
         }
 
         private void join(Task task) {
-            int i = heap.homeOf(task.object);
-            if (ready < TASKS && i >= 0 && i < TASKS) {
+            if (ready < TASKS) {
                 task.state = READY;
-                row[ready] = i;
+                row[ready] = task.index;
                 ready++;
             }
         }
@@ -2042,7 +2094,7 @@ public final class SlotWorld {
                 heap.claim(PLAIN);
             }
             for (int o = 0; o < ALWAYS; o++) {
-                heap.addSlot(LOBBY, program.wordSymbol(LOBBY_NAMES, o), CONSTANT, o);
+                heap.addSlot(LOBBY, program.wordSymbol(LOBBY_NAMES, o, ""), CONSTANT, o);
             }
         }
 
@@ -2059,8 +2111,7 @@ public final class SlotWorld {
         /** The string of the bytes in text: one that lives, else a new one, or -1 without room. */
         int string() {
             int n = Math.min(ROW, text.size);
-            int head = text.mix(0, n);
-            int o = heap.strings[head];
+            int o = heap.strings[text.mix(0, n)];
             for (int k = 0; k < heap.limit && heap.lives(o); k++) {
                 if (isText(o, n)) {
                     return o;
@@ -2075,8 +2126,7 @@ public final class SlotWorld {
             for (int i = 0; i < n; i++) {
                 heap.set(o, i, text.at(i));
             }
-            heap.nextString[o] = heap.strings[head];
-            heap.strings[head] = o;
+            heap.chain(o);
             return o;
         }
 
@@ -2161,8 +2211,9 @@ public final class SlotWorld {
                     reach(heap.at(o, 0));
                 }
                 boolean row = sort == VECTOR || sort == ACTIVATION;
-                for (int i = 0; i < heap.size[o] && (row || sort == PLAIN); i++) {
-                    if (row || heap.hasValue(o, i)) {
+                int n = row ? heap.size[o] : sort == PLAIN ? Math.min(SLOTS, heap.size[o]) : 0;
+                for (int i = 0; i < n; i++) {
+                    if (row || heap.kinds[o * SLOTS + i] != METHOD) {
                         reach(heap.at(o, i));
                     }
                 }
@@ -2178,8 +2229,8 @@ public final class SlotWorld {
                 if (heap.sort[o] != FREE && !marked[o]) {
                     heap.free(o);
                     went++;
-                } else if (heap.sort[o] == STRING) {
-                    chainString(o);
+                } else {
+                    heap.chain(o);
                 }
             }
             for (int i = 0; i < TASKS; i++) {
@@ -2190,17 +2241,6 @@ public final class SlotWorld {
             }
             sweeps++;
             return went;
-        }
-
-        private void chainString(int o) {
-            int n = heap.sizeOf(o);
-            text.size = ROW;
-            int mixed = n;
-            for (int i = 0; i < n; i++) {
-                mixed = mixed * 31 + (int) heap.at(o, i);
-            }
-            heap.nextString[o] = heap.strings[mixed & 255];
-            heap.strings[mixed & 255] = o;
         }
 
         void forget() {
@@ -2250,39 +2290,27 @@ public final class SlotWorld {
             }
         }
 
-        /** What is exchanged is what has just been kept of both. */
-        void exchange(int a, int b) {
-            keep(a, b);
-            int at = (oldest + kept - 1) % CHANGES;
-            giveSlots(2 * at, b);
-            giveSlots(2 * at + 1, a);
+        /** Exchanges the slots of the two of which they have just been kept. */
+        void exchange() {
+            int at = (oldest + kept + CHANGES - 1) % CHANGES;
+            giveSlots(2 * at, changed[2 * at + 1]);
+            giveSlots(2 * at + 1, changed[2 * at]);
         }
 
-        void define(int o, int from) {
-            keep(o, -1);
-            heap.copySlots(o, from);
-        }
-
-        void takeSlot(int o, int slot) {
-            keep(o, -1);
+        /** Works out the slots of o without one, to be stored. */
+        void mergeWithout(int o, int slot) {
             loadMerged(o);
             removeMerged(slot);
-            storeMerged(o);
         }
 
-        /** Slots of another come to o; false, and no change, if they would be too many. */
-        boolean addSlots(int o, int from) {
+        /** Works out the slots of o and those that come from another, to be stored; false if too many. */
+        boolean mergeWith(int o, int from) {
             loadMerged(o);
             int n = heap.sizeOf(from);
             for (int i = 0; i < n; i++) {
                 mergeSlot(heap.named(from, i), heap.kind(from, i), heap.at(from, i));
             }
-            if (merged > SLOTS) {
-                return false;
-            }
-            keep(o, -1);
-            storeMerged(o);
-            return true;
+            return merged <= SLOTS;
         }
 
         private void mergeSlot(int name, int kind, long v) {
@@ -2328,7 +2356,7 @@ public final class SlotWorld {
             }
         }
 
-        private void storeMerged(int o) {
+        void storeMerged(int o) {
             if (!heap.isSort(o, PLAIN)) {
                 return;
             }
@@ -2445,7 +2473,7 @@ public final class SlotWorld {
                 return;
             }
             stamps[o] = stamp;
-            int i = slotFor(o);
+            int i = heap.slotFor(o, wanted, wantedBase);
             if (i >= 0 && hits < hit.length) {
                 hit[hits] = o << 5 | i;
                 hits++;
@@ -2453,17 +2481,6 @@ public final class SlotWorld {
                 path[depth] = o << 5;
                 depth++;
             }
-        }
-
-        private int slotFor(int o) {
-            int i = wanted >= 0 ? heap.slotNamed(o, wanted) : -1;
-            if (i < 0 && wantedBase >= 0) {
-                i = heap.slotNamed(o, wantedBase);
-                if (i >= 0 && (heap.kind(o, i) & 3) != ASSIGNABLE) {
-                    i = -1;
-                }
-            }
-            return i;
         }
 
         void keepFound(int start, Bytes name, int n) {
@@ -2657,7 +2674,11 @@ public final class SlotWorld {
         int arguments;
         private int to;
         int reason;
+        private int error;
+        private int dropped;
         private long target;
+        private int goal;
+        long given;
         final Bytes performed = new Bytes(64);
         private final int ensureBody;
         private final int ensureFirst;
@@ -2736,9 +2757,12 @@ public final class SlotWorld {
                     return STEP;
                 case DO_CARET: return caret(at);
                 case DO_GO_ON:
-                    int goal = (int) task.pop();
-                    return leaveTo(goal, task.pop());
-                default: return through(task.pop());
+                    goal = (int) task.pop();
+                    given = task.pop();
+                    return LEAVE;
+                default:
+                    given = task.pop();
+                    return THROUGH;
             }
         }
 
@@ -2782,13 +2806,13 @@ public final class SlotWorld {
             unit = true;
             set(what);
             to = where;
-            return program.actingOf(what) >= 0 ? DO_ACT : SEND;
+            return program.isAct(what) ? DO_ACT : SEND;
         }
 
         private int open() {
             if (task.body < 0 && task.block < 0) {
-                tasks.end(task, task.pending);
-                return STEP;
+                given = task.pending;
+                return ENDS;
             }
             int block = task.block;
             int home = heap.homeOf(block);
@@ -2832,7 +2856,7 @@ public final class SlotWorld {
         private int literal(int o, int drop) {
             if (o < 0) {
                 setLiteral(LITERAL);
-                return stop(ERROR_ROOM, drop);
+                return stopWith(ERROR_ROOM, drop);
             }
             task.drop(drop);
             task.push(o);
@@ -2867,54 +2891,55 @@ public final class SlotWorld {
             return literal(o, told);
         }
 
-        private int through(long v) {
+        /** The latest activation is through, and has given its answer. */
+        int through() {
             task.leave();
             if (task.depth == 0) {
-                tasks.end(task, v);
-            } else {
-                task.push(v);
+                return ENDS;
             }
+            task.push(given);
             return STEP;
         }
 
         private int caret(int at) {
             task.goTo(at + 1);
-            int goal = task.latest();
+            goal = task.latest();
             for (int k = 0; k < heap.limit && program.op(heap.bodyOf(goal)) == BLOCK_BODY; k++) {
                 goal = heap.homeOf(goal);
             }
             for (int i = 0; i < task.depth; i++) {
                 if (task.activation(i) == goal) {
-                    return leaveTo(goal, task.pop());
+                    given = task.pop();
+                    return LEAVE;
                 }
             }
             setLiteral(CARET);
-            return stop(ERROR_GONE, 1);
+            return stopWith(ERROR_GONE, 1);
         }
 
         /** Activations are left, the latest first, up to the goal; an ensure: on the way has its b first. */
-        private int leaveTo(int goal, long v) {
+        int leave() {
             for (int k = 0; k < DEEPEST && task.depth > 1 && task.latest() != goal; k++) {
                 if (heap.bodyOf(task.latest()) == ensureBody && task.place() == ensureFirst) {
                     task.clear();
-                    task.push(v);
+                    task.push(given);
                     task.push(goal);
                     task.goTo(ensureLeft);
                     return STEP;
                 }
                 task.leave();
             }
-            return through(v);
+            return THROUGH;
         }
 
         /** A body begins; its arguments are at the top, and behind that as many as drop go. */
         private int begin(int body, long self, int holder, int home, int drop) {
             if (task.depth >= DEEPEST) {
-                return stop(ERROR_DEPTH, drop);
+                return stopWith(ERROR_DEPTH, drop);
             }
             int o = keeper.make(ACTIVATION);
             if (o < 0) {
-                return stop(ERROR_ROOM, drop);
+                return stopWith(ERROR_ROOM, drop);
             }
             activations++;
             heap.self[o] = self;
@@ -2934,23 +2959,32 @@ public final class SlotWorld {
             return STEP;
         }
 
-        /** The process at work is stopped; when it is mended, as many values as drop go. */
-        int stop(int error, int drop) {
+        /** What is at hand errs; when it is mended, as many values as drop go. */
+        private int stopWith(int newError, int drop) {
+            error = newError;
+            dropped = drop;
+            return STOP;
+        }
+
+        int stopMessage(int newError) {
+            error = newError;
+            dropped = arguments + 1;
+            target = task.peek(arguments);
+            return STOP;
+        }
+
+        /** The process at work is stopped by its error. */
+        int stop() {
             task.error = error;
             task.reason = error == ERROR_ACT ? reason : 0;
             task.erredArguments = arguments;
-            task.erredDrop = drop;
+            task.erredDrop = dropped;
             task.erredTo = target;
             task.told = error == ERROR_TOLD ? task.peek(arguments - 1) : NIL;
             task.erredName.size = 0;
             putSelector(task.erredName);
             tasks.leaveRow(task, STOPPED);
             return STEP;
-        }
-
-        private int stopMessage(int error) {
-            target = task.peek(arguments);
-            return stop(error, arguments + 1);
         }
 
         private void putSelector(Bytes to) {
@@ -2982,12 +3016,16 @@ public final class SlotWorld {
                 return stopMessage(ERROR_AMBIGUOUS);
             }
             if (looks.hits == 0) {
-                return to == NO_TO ? passUnknown(receiver) : stopMessage(ERROR_NONE);
+                return to == NO_TO ? PASS : stopMessage(ERROR_NONE);
             }
-            return useSlot(receiver, looks.hitObject(), looks.hitSlot());
+            return USE;
         }
 
-        private int useSlot(long receiver, int o, int i) {
+        /** The slot that was found answers the message at hand, or begins. */
+        int useSlot() {
+            long receiver = task.peek(arguments);
+            int o = looks.hitObject();
+            int i = looks.hitSlot();
             if (heap.kind(o, i) == METHOD) {
                 return begin((int) heap.at(o, i), receiver, o, -1, arguments + 1);
             }
@@ -3016,8 +3054,9 @@ public final class SlotWorld {
             return begin(body, heap.selfOf(home), heap.holderOf(home), home, arguments + 1);
         }
 
-        private int passUnknown(long receiver) {
-            looks.search(heap.startOf(receiver), UNKNOWN, -1);
+        /** What nothing was found for goes to unknown:With: , if there is one. */
+        int passUnknown() {
+            looks.search(heap.startOf(task.peek(arguments)), UNKNOWN, -1);
             if (looks.hits != 1) {
                 return stopMessage(ERROR_NONE);
             }
@@ -3041,12 +3080,12 @@ public final class SlotWorld {
             task.push(name);
             task.push(vector);
             set(UNKNOWN);
-            return useSlot(receiver, looks.hitObject(), looks.hitSlot());
+            return USE;
         }
 
         /** An act failed: its reason goes to the block behind IfFail: , without one it is an error. */
         int giveReason() {
-            if ((program.actingOf(symbol) & 1) == 0) {
+            if (!program.failsToBlock(symbol)) {
                 return stopMessage(ERROR_ACT);
             }
             keeper.text.size = 0;
@@ -3061,10 +3100,6 @@ public final class SlotWorld {
             task.push(told);
             set(VALUE_1);
             return SEND;
-        }
-
-        int stopAct(int error) {
-            return stopMessage(error);
         }
 
         /** The message that _Perform:With: tells, its selector in performed, takes the act's place. */
@@ -3117,7 +3152,7 @@ public final class SlotWorld {
             task = machine.task;
             receiver = task.peek(machine.arguments);
             first = argument(0);
-            int which = program.actingOf(machine.symbol) >> 1;
+            int which = program.actOf(machine.symbol);
             switch (which) {
                 case ACT_ADD: case ACT_SUB: case ACT_MUL: case ACT_DIV: case ACT_MOD:
                 case ACT_AND: case ACT_OR: case ACT_XOR: case ACT_SHIFT: case ACT_LESS:
@@ -3134,7 +3169,7 @@ public final class SlotWorld {
                 case ACT_BYTES: return fromBytes();
                 case ACT_PERFORM: return perform();
                 case ACT_RESTART: return machine.restart();
-                case ACT_ERROR: return machine.stopAct(ERROR_TOLD);
+                case ACT_ERROR: return machine.stopMessage(ERROR_TOLD);
                 case ACT_PRINT: return print();
                 case ACT_NAMES: return names();
                 case ACT_KIND: case ACT_PEEK: return lookAt(which);
@@ -3162,7 +3197,7 @@ public final class SlotWorld {
         }
 
         private int made(int o) {
-            return o < 0 ? machine.stopAct(ERROR_ROOM) : machine.reply(o);
+            return o < 0 ? machine.stopMessage(ERROR_ROOM) : machine.reply(o);
         }
 
         private int whole(long v) {
@@ -3451,13 +3486,17 @@ public final class SlotWorld {
                 return fail(TYPE);
             }
             int o = (int) receiver;
-            if (which == ACT_SLOTS && !keeper.addSlots(o, (int) first)) {
+            int other = (int) first;
+            if (which == ACT_SLOTS && !keeper.mergeWith(o, other)) {
                 return fail(SIZE);
             }
-            if (which == ACT_DEFINE) {
-                keeper.define(o, (int) first);
-            } else if (which == ACT_BECOME) {
-                keeper.exchange(o, (int) first);
+            keeper.keep(o, which == ACT_BECOME ? other : -1);
+            if (which == ACT_SLOTS) {
+                keeper.storeMerged(o);
+            } else if (which == ACT_DEFINE) {
+                heap.copySlots(o, other);
+            } else {
+                keeper.exchange();
             }
             return machine.reply(receiver);
         }
@@ -3470,7 +3509,10 @@ public final class SlotWorld {
             if (i < 0) {
                 return fail(NO_NAME);
             }
-            keeper.takeSlot((int) receiver, i);
+            int o = (int) receiver;
+            keeper.mergeWithout(o, i);
+            keeper.keep(o, -1);
+            keeper.storeMerged(o);
             return machine.reply(receiver);
         }
 
