@@ -130,12 +130,17 @@ public final class SlotWorld {
     private static final int DO_GO_ON = 17;
 
     // Symbols that the house itself knows, in the order in which they are made.
-    private static final String HOUSE = "value value: value:With: value:With:With: unknown:With: ensure: ";
+    private static final String HOUSE = "value value: value:With: value:With:With: unknown:With: - * = <- resend ensure: ";
     private static final int VALUE = 0;
     private static final int VALUE_1 = 1;
     private static final int VALUE_3 = 3;
     private static final int UNKNOWN = 4;
-    private static final int ENSURE = 5;
+    private static final int MINUS = 5;
+    private static final int STAR = 6;
+    private static final int EQUALS = 7;
+    private static final int ARROW = 8;
+    private static final int RESEND_NAME = 9;
+    private static final int ENSURE = 10;
     private static final int PERFORMED = -1;
     private static final int LITERAL = -2;
     private static final int CARET = -3;
@@ -867,7 +872,8 @@ public final class SlotWorld {
                 sizes[k] = pos - place;
                 marks[k] = mark;
                 int named = nameSize(kind, pos - place);
-                tells[k] = named > 0 ? program.symbol(program.letters, mark, named) : number;
+                int other = kind == NUMBER ? number : -1;
+                tells[k] = named > 0 ? program.symbol(program.letters, mark, named) : other;
             }
         }
 
@@ -906,14 +912,6 @@ public final class SlotWorld {
         /** How many words there are up to the one at hand, with that. */
         int many() {
             return kinds[at] == END ? at : at + 1;
-        }
-
-        boolean is(String word) {
-            boolean like = sizes[at] == word.length();
-            for (int i = 0; like && i < word.length(); i++) {
-                like = program.letters.at(marks[at] + i) == word.charAt(i);
-            }
-            return like;
         }
 
         private int byteAt(int i) {
@@ -1138,11 +1136,11 @@ public final class SlotWorld {
             return true;
         }
 
-        private boolean atSign(String sign) {
-            return faultNumber == 0 && words.kind() == SIGN && words.is(sign);
+        private boolean atSign(int sign) {
+            return faultNumber == 0 && words.kind() == SIGN && words.told() == sign;
         }
 
-        private boolean takeSign(String sign) {
+        private boolean takeSign(int sign) {
             boolean there = atSign(sign);
             if (there) {
                 next();
@@ -1220,10 +1218,10 @@ public final class SlotWorld {
                 }
                 next();
             }
-            if (!newCell(body, argument) || argument || !takeSign("<-")) {
+            if (!newCell(body, argument) || argument || !takeSign(ARROW)) {
                 return;
             }
-            boolean minus = takeSign("-");
+            boolean minus = takeSign(MINUS);
             int told = words.told();
             if (take(NUMBER)) {
                 program.patch(program.end - 2, 1);
@@ -1317,9 +1315,9 @@ public final class SlotWorld {
         }
 
         private int takeTo() {
-            int name = words.is("resend.") ? RESEND : words.told();
+            int name = words.told();
             next();
-            return name;
+            return name == RESEND_NAME ? RESEND : name;
         }
 
         private void emitSend(int to, int symbol) {
@@ -1439,7 +1437,7 @@ public final class SlotWorld {
         }
 
         private void number() {
-            boolean minus = takeSign("-");
+            boolean minus = takeSign(MINUS);
             int told = words.told();
             if (take(NUMBER)) {
                 program.emit(DO_WHOLE);
@@ -1517,8 +1515,8 @@ public final class SlotWorld {
             int name = words.told();
             int mark = words.mark();
             next();
-            int parent = takeSign("*") ? PARENT : 0;
-            if (atSign("=")) {
+            int parent = takeSign(STAR) ? PARENT : 0;
+            if (atSign(EQUALS)) {
                 newSlot(from, name, CONSTANT + parent);
                 next();
                 if (parent == 0 && at('(')) {
@@ -1527,7 +1525,7 @@ public final class SlotWorld {
                 } else {
                     slotValue();
                 }
-            } else if (atSign("<-")) {
+            } else if (atSign(ARROW)) {
                 newSlot(from, name, ASSIGNABLE + parent);
                 next();
                 slotValue();
@@ -1557,7 +1555,7 @@ public final class SlotWorld {
                 }
                 newCell(body, true);
             }
-            if (!atSign("=")) {
+            if (!atSign(EQUALS)) {
                 fail(SYNTAX);
                 return;
             }
@@ -1610,7 +1608,7 @@ public final class SlotWorld {
         private void slotValue() {
             int start = program.end;
             int before = words.at;
-            boolean minus = atSign("-");
+            boolean minus = atSign(MINUS);
             boolean literal = at(NUMBER) || at(QUOTED);
             program.emit(DO_SLOT);
             int body = beginBody(SLOT_BODY);
