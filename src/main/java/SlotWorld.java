@@ -915,7 +915,7 @@ public final class SlotWorld {
         }
 
         private int byteAt(int i) {
-            return i >= 0 && i < length ? tape.at(i) : 0;
+            return i >= 0 && i < length && i < tape.size ? tape.row[i] & 255 : 0;
         }
 
         private void skipBlanks() {
