@@ -110,6 +110,12 @@ public final class SlotWorld {
     private static final int HEAD = 6;
     private static final int CELL = 3;
 
+    // Where the house's own body of ensure: stands: its first is at work till the code goes on at
+    // ENSURE_FIRST; a ^ that leaves it then goes on at ENSURE_LEFT.
+    private static final int ENSURE_AT = 0;
+    private static final int ENSURE_FIRST = HEAD + CELL + 2;
+    private static final int ENSURE_LEFT = ENSURE_FIRST + 6;
+
     private static final int DO_THROUGH = 0;
     private static final int DO_NIL = 1;
     private static final int DO_WHOLE = 2;
@@ -656,6 +662,31 @@ public final class SlotWorld {
                 wordSymbol(ACTS, k, "");
                 wordSymbol(ACTS, k, IF_FAIL);
             }
+            emitEnsure();
+        }
+
+        private void emitEnsure() {
+            emit(ENSURE_BODY);
+            emit(ENSURE_LEFT + 6);
+            emit(1);
+            emit(1);
+            for (int i = BODY_LETTERS; i < HEAD + CELL; i++) {
+                emit(0);
+            }
+            emit(DO_SELF);
+            emit(DO_PASS);
+            emitCellValue();
+            emit(DO_THROUGH);
+            emitCellValue();
+            emit(DO_GO_ON);
+        }
+
+        private void emitCellValue() {
+            emit(DO_CELL);
+            emit(0);
+            emit(0);
+            emit(DO_PASS);
+            emit(DO_POP);
         }
 
         int wordSymbol(String words, int k, String behind) {
@@ -2678,9 +2709,6 @@ public final class SlotWorld {
         private int goal;
         long given;
         final Bytes performed = new Bytes(64);
-        private final int ensureBody;
-        private final int ensureFirst;
-        private final int ensureLeft;
 
         Machine(Program program, Heap heap, Tasks tasks, Keeper keeper, Looks looks) {
             this.program = program;
@@ -2689,31 +2717,6 @@ public final class SlotWorld {
             this.keeper = keeper;
             this.looks = looks;
             task = tasks.first();
-            ensureBody = program.end;
-            program.emit(ENSURE_BODY);
-            program.emit(0);
-            program.emit(1);
-            program.emit(1);
-            for (int i = 0; i < 2 + CELL; i++) {
-                program.emit(0);
-            }
-            program.emit(DO_SELF);
-            program.emit(DO_PASS);
-            ensureFirst = program.end;
-            emitCellValue();
-            program.emit(DO_THROUGH);
-            ensureLeft = program.end;
-            emitCellValue();
-            program.emit(DO_GO_ON);
-            program.patch(ensureBody + BODY_END, program.end);
-        }
-
-        private void emitCellValue() {
-            program.emit(DO_CELL);
-            program.emit(0);
-            program.emit(0);
-            program.emit(DO_PASS);
-            program.emit(DO_POP);
         }
 
         /** One part of the code; what it answers is what is to be done next. */
@@ -2918,11 +2921,11 @@ public final class SlotWorld {
         /** Activations are left, the latest first, up to the goal; an ensure: on the way has its b first. */
         int leave() {
             for (int k = 0; k < DEEPEST && task.depth > 1 && task.latest() != goal; k++) {
-                if (heap.bodyOf(task.latest()) == ensureBody && task.place() == ensureFirst) {
+                if (heap.bodyOf(task.latest()) == ENSURE_AT && task.place() == ENSURE_FIRST) {
                     task.clear();
                     task.push(given);
                     task.push(goal);
-                    task.goTo(ensureLeft);
+                    task.goTo(ENSURE_LEFT);
                     return STEP;
                 }
                 task.leave();
@@ -3042,7 +3045,7 @@ public final class SlotWorld {
 
         private int deliverToBlock(int block) {
             if (symbol == ENSURE) {
-                return begin(ensureBody, block, BLOCKS, -1, 2);
+                return begin(ENSURE_AT, block, BLOCKS, -1, 2);
             }
             int body = heap.bodyOf(block);
             if (program.op(body + BODY_ARGUMENTS) != arguments) {
