@@ -2000,6 +2000,8 @@ public final class SlotWorld {
                 if (all[i].object < 0) {
                     all[i].begin(o, body, block);
                     heap.home[o] = i;
+                    // Its answer: what another object with this number had there is no longer reached.
+                    heap.set(o, 0, NIL);
                     open++;
                     join(all[i]);
                     return;
