@@ -52,10 +52,10 @@ public final class SlotWorld {
     private static final int WRITTEN = 8000;
 
     // Within 512 calls at most 10220 bytes can be fed: these rows hold all that such texts can tell.
-    private static final int CODE_ROOM = 64000;
-    private static final int LETTER_ROOM = 14000;
-    private static final int SYMBOL_ROOM = 6000;
-    private static final int NAME_ROOM = 28000;
+    private static final int CODE_ROOM = 48000;
+    private static final int LETTER_ROOM = 12500;
+    private static final int SYMBOL_ROOM = 6500;
+    private static final int NAME_ROOM = 26000;
     private static final int STACK = 120 * DEEPEST + 64;
     private static final int LONG_RUN = 2000000000;
 
@@ -654,15 +654,25 @@ public final class SlotWorld {
             for (int i = 0; i < heads.length; i++) {
                 heads[i] = -1;
             }
-            for (int k = 0; k <= ENSURE; k++) {
-                wordSymbol(HOUSE, k, "");
-            }
+            addWords(HOUSE, "");
             firstAct = symbols;
-            for (int k = 0; k < ACT_SIGNAL; k++) {
-                wordSymbol(ACTS, k, "");
-                wordSymbol(ACTS, k, IF_FAIL);
-            }
+            addWords(ACTS, IF_FAIL);
             emitEnsure();
+        }
+
+        /** Each of these words, which have a blank behind them, becomes a symbol; so does it with more. */
+        private void addWords(String words, String more) {
+            scratch.size = 0;
+            for (int i = 0; i < words.length(); i++) {
+                if (words.charAt(i) != ' ') {
+                    scratch.put(words.charAt(i));
+                } else {
+                    symbol(scratch, 0, scratch.size);
+                    scratch.putText(more);
+                    symbol(scratch, 0, scratch.size);
+                    scratch.size = 0;
+                }
+            }
         }
 
         private void emitEnsure() {
@@ -689,10 +699,9 @@ public final class SlotWorld {
             emit(DO_POP);
         }
 
-        int wordSymbol(String words, int k, String behind) {
+        int wordSymbol(String words, int k) {
             scratch.size = 0;
             scratch.putWord(words, k);
-            scratch.putText(behind);
             return symbol(scratch, 0, scratch.size);
         }
 
@@ -2125,7 +2134,7 @@ public final class SlotWorld {
                 heap.claim(PLAIN);
             }
             for (int o = 0; o < ALWAYS; o++) {
-                heap.addSlot(LOBBY, program.wordSymbol(LOBBY_NAMES, o, ""), CONSTANT, o);
+                heap.addSlot(LOBBY, program.wordSymbol(LOBBY_NAMES, o), CONSTANT, o);
             }
         }
 
