@@ -302,7 +302,7 @@ public final class SlotWorld {
         if (what == 0) {
             return reader.faultNumber;
         }
-        return what == 1 && reader.faultNumber != 0 ? reader.faultPlace : -1;
+        return what == 1 ? reader.faultPlace : -1;
     }
 
     public int turn(int n) {
@@ -949,11 +949,6 @@ public final class SlotWorld {
             return tells[at];
         }
 
-        /** How many words there are up to the one at hand, with that. */
-        int many() {
-            return kinds[at] == END ? at : at + 1;
-        }
-
         private int byteAt(int i) {
             return i >= 0 && i < length && i < tape.size ? tape.row[i] & 255 : 0;
         }
@@ -1090,7 +1085,7 @@ public final class SlotWorld {
         final Program program;
         final Words words;
         int faultNumber;
-        int faultPlace;
+        int faultPlace = -1;
         int allWords;
         private int allLetters;
         private int textLetters;
@@ -1133,7 +1128,8 @@ public final class SlotWorld {
             int body = beginBody(TEXT_BODY);
             inner(body, END);
             endBody(body);
-            if (allWords + words.many() > ALL_WORDS || allLetters + textLetters > ALL_LETTERS) {
+            // Without a fault the word at hand is the end, ahead of which all words are.
+            if (allWords + words.at > ALL_WORDS || allLetters + textLetters > ALL_LETTERS) {
                 fail(CODE);
             }
             if (faultNumber != 0) {
@@ -1142,7 +1138,7 @@ public final class SlotWorld {
                 program.cutBack(symbols, names, end, letters);
                 return -1;
             }
-            allWords += words.many();
+            allWords += words.at;
             allLetters += textLetters;
             return body;
         }

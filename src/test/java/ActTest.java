@@ -101,10 +101,13 @@ public final class ActTest {
         fails(c, "3 _Join: 'a'", "type");
         c.givesString("-120 _Text", "-120");
         c.givesString("0 _Text", "0");
+        c.givesString("10 _Text", "10");
+        c.givesString("-1009 _Text", "-1009");
         c.givesString("(-2147483647 - 1) _Text", "-2147483648");
         c.givesString("'q' _Text", "q");
         fails(c, "nil _Text ", "type");
         c.givesWhole("'-00012' _Whole", -12);
+        c.givesWhole("'1090' _Whole", 1090);
         c.givesWhole("'2147483647' _Whole", 2147483647);
         c.givesWhole("'-2147483648' _Whole", -2147483648L);
         for (String digits : new String[] {"", "-", "2147483648", "-2147483649", "+1", "1 ", "99999999999999999999", "--1", "1-"}) {
@@ -162,6 +165,7 @@ public final class ActTest {
         fails(c, "'o' _Kind: 'a'", "type");
         fails(c, "3 _Names ", "type");
         c.givesWhole("{ } _Names _Size", 0);
+        c.givesWhole("1 + ({ a. b } _Names _Size)", 3);
     }
 
     private static void changes() {
@@ -182,6 +186,14 @@ public final class ActTest {
         c.run("o _Slots: { c: x = ( 8 ) }");
         Check.due("the assignable c went", c.selector(o, 3), "d:");
         Check.due("c: is last", c.selector(o, 4), "c:");
+        c.run("o _Slots: { e <- 'last' }. o _Take: 'b'");
+        Check.due("b went", c.selector(o, 1), "d");
+        Check.due("d stays as it is", c.world.value(o, 1), W + 6);
+        Check.due("d: stays as it is", c.world.slot(o, 2), 2);
+        Check.due("e stays as it is", c.world.slot(o, 4), 1);
+        Check.due("e stays as it is", c.string(c.world.value(o, 4)), "last");
+        c.world.undo();
+        c.world.undo();
         c.run("o _Take: 'd:'");
         Check.due("d: went", c.world.object(o, 1), 4);
         fails(c, "o _Take: 'd:'", "name");
@@ -208,6 +220,11 @@ public final class ActTest {
         Check.due("nothing is kept", c.world.count(6), kept);
         c.run("o _Slots: { z3 = 1. z3: n = ( 2 ) }");
         Check.due("no more than 24", c.world.object(o, 1), 24);
+        c.run("o _Slots: { z0: n = ( 3 ) }");
+        Check.due("the first went", c.selector(o, 0), "z1");
+        Check.due("the setter is last", c.selector(o, 23), "z0:");
+        c.run("o _Slots: { z0 <- 4 }");
+        Check.due("and the other way", c.selector(o, 23), "z0");
         c.run("o _Slots: o");
         Check.due("itself", c.world.object(o, 1), 24);
     }

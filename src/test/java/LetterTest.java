@@ -72,6 +72,31 @@ public final class LetterTest {
         Check.due("more than 8000", c.world.write(), -1);
         Check.due("the latest ones stay", c.world.count(8), 1399);
         Check.due("the latest ones stay", c.world.octets(0), 0x73656C66205F4465L);
+        // A slot with a string of 60 bytes takes 70 more, and the last one what is left up to 8000.
+        Check d = new Check(600);
+        String sixty = "b".repeat(60);
+        for (int k = 0; k < 4; k++) {
+            StringBuilder text = new StringBuilder("self _Slots: { o" + k + " = { ");
+            for (int i = 0; i < 22; i++) {
+                text.append("s" + (char) ('a' + i) + "xy = '" + sixty + "'. ");
+            }
+            d.run(text + "} }");
+        }
+        int rest = 8000 - d.world.write();
+        StringBuilder last = new StringBuilder("self _Slots: { p = { ");
+        int many = (rest - 100) / 70;
+        for (int i = 0; i < many; i++) {
+            last.append("s" + (char) ('a' + i) + "xy = '" + sixty + "'. ");
+        }
+        d.run(last + "y = ''. z = '' } }");
+        int more = (8000 - d.world.write()) / 2;
+        d.run("p _Slots: { y = '" + "c".repeat(more) + "' }");
+        more = 8000 - d.world.write();
+        d.run("p _Slots: { z = '" + "c".repeat(more) + "' }");
+        Check.due("8000 bytes", d.world.write(), 8000);
+        d.run("p _Slots: { z = '" + "c".repeat(more + 1) + "' }");
+        Check.due("8001 bytes", d.world.write(), -1);
+        Check.due("the latest ones stay", d.world.count(8), 8000);
     }
 
     private static void fetching() {

@@ -145,6 +145,10 @@ public final class LookTest {
         Check.due("through parents", find(c, W, "lobby"), 1);
         Check.due("lobby has it", c.world.found(0, 0), 3);
         Check.due("no selector", find(c, 3, "no such thing at all, and far too long for a selector of any kind, too"), 0);
+        c.run("self _Slots: { abcdefghij: a Klmnopq: b = ( 3 ). m = ( abcdefghij: 1 Klmnopq: 2 ) }");
+        Check.due("as many as there are", find(c, 3, "abcdefghij:Klmnopq: ".substring(0, 19)), 1);
+        c.feed("                   x");
+        Check.due("all bytes that there are", c.world.find(3, 20), 0);
         int p = c.run("zork");
         Check.due("an activation is searched from nil", find(c, c.world.frame(p, 0, 0), "nil"), 0);
         find(c, d, "y");
@@ -183,6 +187,8 @@ public final class LookTest {
         Check.due("a method within is its own", senders(c, "zip"), 5);
         Check.due("none", senders(c, "nowhere"), 0);
         Check.due("none", c.world.sender(0, 0), -1);
+        c.feed("12345678901234567890");
+        Check.due("all bytes that there are", c.world.senders(20), 0);
         Check.due("refused", c.world.senders(0), -1);
         Check.due("refused", c.world.senders(1), -1);
         c.feed("zip");

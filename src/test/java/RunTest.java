@@ -75,6 +75,8 @@ public final class RunTest {
         c.givesWhole("(b x: 7) foo", 8);
         c.givesWhole("a x", 7);
         c.gives("a x: 8", c.answer("a"));
+        c.givesWhole("({ value <- 1. z <- 2 } value: 5) value", 5);
+        c.givesWhole("({ value <- 1. z <- 2 } z: 6) z", 6);
         // Parents that are wholes or strings are searched from their traits.
         c.stops("k = 1", 2, "=", c.answer("k"), 1);
         c.givesWhole("(k _Same: 3) not ifTrue: [ 6 ]", 6);
@@ -97,6 +99,11 @@ public final class RunTest {
         c.stops("b baz", 1, "foo", b, 0);
         c.stops("b none", 1, "zork", b, 0);
         c.givesWhole("b zork", 99);
+        // A slot that is no parent is none for TO.
+        c.run("self _Slots: { d = { other = a. parent* = b. foo = ( resend.foo + 100 ). bar = ( other.foo ). up = ( resend.x ) } }");
+        c.givesWhole("d foo", 119);
+        c.stops("d bar", 1, "foo", c.answer("d"), 0);
+        c.givesWhole("d up", 8);
         c.givesWhole("b foo: 1 Bar: 2", 99);
         // With TO a block answers nothing itself.
         c.run("block _Slots: { up = ( resend.value ) }");
@@ -235,6 +242,10 @@ public final class RunTest {
         Check.due("no value", c.world.mend(p, W - (1L << 31) - 1), false);
         Check.due("below 0", c.world.mend(p, -1), false);
         Check.due("still stopped", c.world.process(p, 0), 3);
+        Check.due("the greatest whole", c.world.mend(p, W + Integer.MAX_VALUE), true);
+        c.world.turn(1);
+        Check.due("its answer", c.world.answer(p, 0), W + Integer.MAX_VALUE);
+        p = c.run("zork");
         Check.due("the least whole", c.world.mend(p, W - (1L << 31)), true);
         c.world.turn(1);
         Check.due("its answer", c.world.answer(p, 0), W - (1L << 31));

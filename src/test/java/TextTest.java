@@ -66,6 +66,9 @@ public final class TextTest {
         Check.due("its answer", c.world.answer(10, 0), 0);
         Check.due("with a fault", c.tell("("), -1);
         Check.due("that fault", c.world.fault(0), 1);
+        Check.due("its place", c.world.fault(1), 1);
+        Check.due("another what", c.world.fault(2), -1);
+        Check.due("another what", c.world.fault(-1), -1);
         for (int i = 0; i < 12; i++) {
             Check.due("process " + i, c.tell("3"), 12 + i);
         }
@@ -97,6 +100,7 @@ public final class TextTest {
         c.faults("2147483647", 0, -1);
         c.faults("0000000000002147483647", 0, -1);
         c.faults("2147483648", 1, 0);
+        c.faults("21474836470", 1, 0);
         c.faults("12a", 1, 0);
         c.faults("12_", 1, 0);
         c.faults("3 Foo", 1, 2);
@@ -113,6 +117,9 @@ public final class TextTest {
         c.faults("x.y.z", 1, 2);
         c.faults("x.self", 1, 2);
         c.faults("x. y", 0, -1);
+        c.faults("x.a.", 0, -1);
+        c.faults("x.z: 3", 0, -1);
+        c.faults("x.Z", 1, 2);
         c.faults("'a\\n\\'\\\\b'", 0, -1);
         c.faults("'a\\b'", 1, 0);
         c.faults("'a", 1, 0);
@@ -202,6 +209,8 @@ public final class TextTest {
         c.faults("a: ".repeat(13) + "3", 2, 36);
         c.faults("(_Foo: " .repeat(6) + "[", 2, 42);
         c.faults("a: (b: 3) Foo: (b: 4)", 0, -1);
+        c.faults("(1). ".repeat(14) + "[ ]. ".repeat(14) + "{ }. ".repeat(14) + "a: 1. ".repeat(14), 0, -1);
+        c.faults("{ " + "a = ( 3 ). ".repeat(1) + "b <- [ ]. c <- (1) }. ".repeat(1) + "{ d = ( 3 ) }. ".repeat(14), 0, -1);
         c.faults(slots(24), 0, -1);
         c.faultsAt(slots(25), 2, "x24");
         c.faultsAt("| " + cells(0, 13, "") + "| 3", 2, "x12");
