@@ -142,6 +142,7 @@ public final class ActTest {
         }
         c.run("self _Slots: { u = { unknown: s With: v = ( s ) } }");
         c.givesString("u _Perform: 'zork:Mork:' With: (_Vector: 2 Fill: 4)", "zork:Mork:");
+        c.givesString("u _Perform: 'a:A:Z:' With: (_Vector: 3 Fill: 4)", "a:A:Z:");
         c.givesString("u _Perform: 'a:B:C:D:E:F:G:H:' With: (_Vector: 8 Fill: 4)", "a:B:C:D:E:F:G:H:");
     }
 
@@ -262,6 +263,8 @@ public final class ActTest {
         c.givesWhole("1 _Add: nil IfFail: [ | :r | r size ]", 4);
         c.givesWhole("1 _Add: nil IfFail: { value: r = ( 6 ) }", 6);
         c.givesWhole("1 _Add: 2 IfFail: nil", 3);
+        c.givesWhole("1 + ('a' _Add: 1 IfFail: [ | :r | 5 ])", 6);
+        c.givesWhole("1 + (3 _Perform: '+' With: (_Vector: 1 Fill: 4))", 8);
         int p = c.run("1 _Add: nil IfFail: [ | :r | r ]");
         Check.due("a reason is no unit", c.world.process(p, 1), 2);
     }

@@ -183,6 +183,10 @@ public final class LookTest {
         }
         Check.due("zip:", senders(c, "zip:"), 3);
         Check.due("its slot", c.world.sender(0, 1), 6);
+        c.run("o _Slots: { n = ( { x = 1. y = 'q'. z = ( 2 ). w } _Copy. zup ) }");
+        Check.due("of all that live, swept or not", senders(c, "zup"), 2);
+        c.world.sweep();
+        Check.due("of all that live", senders(c, "zup"), 1);
         c.run("o m4");
         Check.due("a method within is its own", senders(c, "zip"), 5);
         Check.due("none", senders(c, "nowhere"), 0);

@@ -84,6 +84,7 @@ public final class ProcessTest {
         c.world.turn(100);
         Check.due("goes on", c.world.answer(p, 0), W + 6);
         c.givesWhole("[ 4 ] _Spawn _Value", 4);
+        c.givesWhole("1 + ([ _Yield. 4 ] _Spawn _ValueIfFail: nil)", 5);
         c.givesWhole("| q | q: [ 4 ] _Spawn. q _Value. q _Value", 4);
         int both = c.tell("self _Slots: { q <- 0 }. q: [ zork ] _Spawn. [ q _Value + 1 ] _Spawn. [ q _Value + 2 ] _Spawn");
         c.world.turn(100);
@@ -125,6 +126,9 @@ public final class ProcessTest {
         c.run("s signal. s signal");
         Check.due("the last", c.fetched(), "c");
         Check.due("one signal more", c.world.object(s, 1), 1);
+        c.run("s wait. [ _Yield. s wait. 'd' _Print ] _Spawn. [ s wait. 'e' _Print ] _Spawn");
+        c.run("s signal. s signal");
+        Check.due("who waits longest, not who was there first", c.fetched(), "ed");
         // Who waits for what no one has waits for ever, also when the number is another's.
         int lost = c.run("(_Semaphore: 0) _Wait");
         Check.due("waits", c.world.process(lost, 0), 1);

@@ -192,6 +192,7 @@ public final class RunTest {
         c.stops("zork", 1, "zork", 3, 0);
         c.stops("4 zork: 5 Mork: 6", 1, "zork:Mork:", W + 4, 2);
         c.stops("nil foo", 1, "foo", 0, 0);
+        c.stops("3 " + "+".repeat(60) + " 4", 1, "+".repeat(60), W + 3, 1);
         int p = c.stops("4 _Div: 0", 3, "_Div:", W + 4, 1);
         Check.due("reason", c.world.process(p, 5), 3);
         p = c.stops("4 _Zork: 0", 3, "_Zork:", W + 4, 1);

@@ -124,6 +124,9 @@ public final class TextTest {
         c.faults("'a\\b'", 1, 0);
         c.faults("'a", 1, 0);
         c.faults("'a\nb'", 1, 0);
+        c.faults("' ~'", 0, -1);
+        c.faults("'\u007f'", 1, 0);
+        c.faults("a: 1 Z: 2 A: 3", 0, -1);
         c.faults("'" + "a".repeat(59) + "\\n'", 0, -1);
         c.faults("'" + "a".repeat(61) + "'", 1, 0);
         // A name has 16 bytes at most: the 17th begins the next word.
@@ -148,6 +151,7 @@ public final class TextTest {
         c.faults("[ | | ]", 0, -1);
         c.faults("[ :a | 3 ]", 1, 2);
         c.faults("[ | :a. b. | a ]", 0, -1);
+        c.faults("[ | :a <- 3 | a ]", 1, 7);
         c.faults("| a b | 3", 1, 4);
         c.faults("| a <- 3. b <- - 4. c | c", 0, -1);
         c.faults("| a <- x | 3", 1, 7);
