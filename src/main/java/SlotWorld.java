@@ -2079,8 +2079,9 @@ public final class SlotWorld {
             }
             task.object = -1;
             open--;
-            for (int k = 0; k < TASKS && wakeFor(o, v); k++) {
-                task.waitsFor = -1;
+            boolean woken = true;
+            for (int k = 0; k < TASKS && woken; k++) {
+                woken = wakeFor(o, v);
             }
         }
 
@@ -2954,13 +2955,13 @@ public final class SlotWorld {
             heap.holder[o] = holder;
             heap.home[o] = home;
             heap.body[o] = body;
-            int given = program.op(body + BODY_ARGUMENTS);
+            int taken = program.op(body + BODY_ARGUMENTS);
             int cells = program.op(body + BODY_CELLS);
             heap.size[o] = cells;
             for (int i = 0; i < cells; i++) {
                 int told = body + HEAD + CELL * i + 1;
                 long first = program.op(told) == 0 ? NIL : WHOLE + program.op(told + 1);
-                heap.set(o, i, i < given ? task.peek(given - 1 - i) : first);
+                heap.set(o, i, i < taken ? task.peek(taken - 1 - i) : first);
             }
             task.drop(drop);
             task.enter(o, program.firstOf(body));
