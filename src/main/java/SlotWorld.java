@@ -151,6 +151,9 @@ public final class SlotWorld {
     private static final int LITERAL = -2;
     private static final int CARET = -3;
 
+    // Of the message at hand: it was not passed on, what it goes to and its arguments were worked out.
+    private static final int WORKED_OUT = -1;
+
     // What is to be done next for the process at work: a turn does one after the other.
     private static final int STEP = 0;
     private static final int SEND = 1;
@@ -2710,9 +2713,9 @@ public final class SlotWorld {
         int base;
         int arguments;
         private int to;
+        private int below;
         int reason;
         private int error;
-        private int dropped;
         private long target;
         private int goal;
         long given;
@@ -2754,7 +2757,7 @@ public final class SlotWorld {
                 case DO_BLOCK: return block(at);
                 case DO_SLOT:
                     task.goTo(program.op(at + 1 + BODY_END));
-                    setLiteral(LITERAL);
+                    setLiteral(LITERAL, heap.selfOf(task.latest()));
                     return begin(at + 1, LOBBY, LOBBY, -1, 0);
                 case DO_METHOD:
                     task.goTo(program.op(at + 1 + BODY_END));
@@ -2801,12 +2804,19 @@ public final class SlotWorld {
             base = program.baseOf(newSymbol);
             arguments = program.partsOf(newSymbol);
             to = NO_TO;
+            below = WORKED_OUT;
         }
 
-        private void setLiteral(int what) {
+        private void setLiteral(int what, long self) {
             symbol = what;
             arguments = 0;
-            target = heap.selfOf(task.latest());
+            target = self;
+            below = WORKED_OUT;
+        }
+
+        /** How many values go when the message at hand is answered. */
+        private int taken() {
+            return arguments + 1 + Math.max(0, below);
         }
 
         private int message(int at, int where, int what) {
@@ -2828,9 +2838,7 @@ public final class SlotWorld {
             long self = block < 0 ? LOBBY : heap.selfOf(home);
             int holder = block < 0 ? LOBBY : heap.holderOf(home);
             int body = block < 0 ? task.body : heap.bodyOf(block);
-            symbol = LITERAL;
-            arguments = 0;
-            target = self;
+            setLiteral(LITERAL, self);
             int phase = begin(body, self, holder, home, 0);
             task.body = -1;
             task.block = -1;
@@ -2864,7 +2872,7 @@ public final class SlotWorld {
 
         private int literal(int o, int drop) {
             if (o < 0) {
-                setLiteral(LITERAL);
+                setLiteral(LITERAL, heap.selfOf(task.latest()));
                 return stopWith(ERROR_ROOM, drop);
             }
             task.drop(drop);
@@ -2912,18 +2920,18 @@ public final class SlotWorld {
 
         private int caret(int at) {
             task.goTo(at + 1);
+            given = task.pop();
             goal = task.latest();
             for (int k = 0; k < heap.limit && program.op(heap.bodyOf(goal)) == BLOCK_BODY; k++) {
                 goal = heap.homeOf(goal);
             }
             for (int i = 0; i < task.depth; i++) {
                 if (task.activation(i) == goal) {
-                    given = task.pop();
                     return LEAVE;
                 }
             }
-            setLiteral(CARET);
-            return stopWith(ERROR_GONE, 1);
+            setLiteral(CARET, heap.selfOf(task.latest()));
+            return stopWith(ERROR_GONE, 0);
         }
 
         /** Activations are left, the latest first, up to the goal; an ensure: on the way has its b first. */
@@ -2971,15 +2979,13 @@ public final class SlotWorld {
         /** What is at hand errs; when it is mended, as many values as drop go. */
         private int stopWith(int newError, int drop) {
             error = newError;
-            dropped = drop;
+            task.erredDrop = drop;
             return STOP;
         }
 
         int stopMessage(int newError) {
-            error = newError;
-            dropped = arguments + 1;
             target = task.peek(arguments);
-            return STOP;
+            return stopWith(newError, taken());
         }
 
         /** The process at work is stopped by its error. */
@@ -2987,11 +2993,15 @@ public final class SlotWorld {
             task.error = error;
             task.reason = error == ERROR_ACT ? reason : 0;
             task.erredArguments = arguments;
-            task.erredDrop = dropped;
             task.erredTo = target;
             task.told = error == ERROR_TOLD ? task.peek(arguments - 1) : NIL;
             task.erredName.size = 0;
             putSelector(task.erredName);
+            if (below != WORKED_OUT) {
+                // What was passed on is none of what the process works out: a sweep does not reach it.
+                task.drop(arguments + 1);
+                task.erredDrop = below;
+            }
             tasks.leaveRow(task, STOPPED);
             return STEP;
         }
@@ -3036,7 +3046,7 @@ public final class SlotWorld {
             int o = looks.hitObject();
             int i = looks.hitSlot();
             if (heap.kind(o, i) == METHOD) {
-                return begin((int) heap.at(o, i), receiver, o, -1, arguments + 1);
+                return begin((int) heap.at(o, i), receiver, o, -1, taken());
             }
             if (heap.named(o, i) == symbol) {
                 return reply(heap.at(o, i));
@@ -3046,26 +3056,27 @@ public final class SlotWorld {
         }
 
         int reply(long v) {
-            task.drop(arguments + 1);
+            task.drop(taken());
             task.push(v);
             return STEP;
         }
 
         private int deliverToBlock(int block) {
             if (symbol == ENSURE) {
-                return begin(ENSURE_AT, block, BLOCKS, -1, 2);
+                return begin(ENSURE_AT, block, BLOCKS, -1, taken());
             }
             int body = heap.bodyOf(block);
             if (program.op(body + BODY_ARGUMENTS) != arguments) {
                 return stopMessage(ERROR_COUNT);
             }
             int home = heap.homeOf(block);
-            return begin(body, heap.selfOf(home), heap.holderOf(home), home, arguments + 1);
+            return begin(body, heap.selfOf(home), heap.holderOf(home), home, taken());
         }
 
         /** What nothing was found for goes to unknown:With: , if there is one. */
         int passUnknown() {
-            looks.search(heap.startOf(task.peek(arguments)), UNKNOWN, -1);
+            long receiver = task.peek(arguments);
+            looks.search(heap.startOf(receiver), UNKNOWN, -1);
             if (looks.hits != 1) {
                 return stopMessage(ERROR_NONE);
             }
@@ -3085,10 +3096,16 @@ public final class SlotWorld {
             for (int i = 0; i < arguments; i++) {
                 heap.set(vector, i, task.peek(arguments - 1 - i));
             }
-            task.drop(arguments);
+            int stays = arguments + 1;
+            if (below != WORKED_OUT) {
+                task.drop(arguments + 1);
+                stays = below;
+            }
+            task.push(receiver);
             task.push(name);
             task.push(vector);
             set(UNKNOWN);
+            below = stays;
             return USE;
         }
 
@@ -3108,6 +3125,7 @@ public final class SlotWorld {
             task.push(block);
             task.push(told);
             set(VALUE_1);
+            below = 0;
             return SEND;
         }
 
@@ -3125,6 +3143,7 @@ public final class SlotWorld {
             base = setter > 0 ? program.known(performed, 0, setter) : -1;
             arguments = n;
             to = NO_TO;
+            below = 0;
             return SEND;
         }
 

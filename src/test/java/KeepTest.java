@@ -6,6 +6,8 @@ public final class KeepTest {
         holding();
         sweeping();
         working();
+        behindErrors();
+        mendedBehindSweeps();
         strings();
         undoing();
         keptChanges();
@@ -110,6 +112,64 @@ public final class KeepTest {
         Check d = new Check(100);
         d.givesWhole("| n <- 0 | [ n > 300 ] whileFalse: [ { x <- 0 } x: n. n: n + 1 ]. n", 301);
         Check.due("sweeps", d.world.count(10) > 5, true);
+    }
+
+    /** A text on a new world is stopped by this error; a sweep then takes so many objects away. */
+    private static void sweeps(String text, int error, int went) {
+        Check c = new Check(0);
+        int p = c.run(text);
+        Check.due(text + ": error", c.world.process(p, 4), error);
+        Check.due(text + ": went", c.world.sweep(), went);
+        Check.due(text + ": nothing more", c.world.sweep(), 0);
+    }
+
+    private static void behindErrors() {
+        // What was worked out for the message that erred stays: it may still be mended.
+        sweeps("3 foo: 'abc'", 1, 0);
+        sweeps("'rcv' foo: 'abc' Bar: [ 2 ]", 1, 0);
+        sweeps("3 _Join: 'abc'", 3, 0);
+        sweeps("3 _Add: [ 2 ]", 3, 0);
+        sweeps("[ | :a | a ] value: 'abc' With: { }", 4, 0);
+        // An act that has failed to its block is done, and nothing names the reason's string.
+        sweeps("3 _At: 1 IfFail: [ 2 ]", 4, 1);
+        sweeps("3 _At: 'abc' IfFail: [ 2 ]", 4, 2);
+        sweeps("'rcv' _At: 9 IfFail: [ 2 ]", 4, 2);
+        sweeps("3 _SizeIfFail: 5", 1, 1);
+        sweeps("3 _SizeIfFail: 'blk'", 1, 1);
+        sweeps("3 _FooIfFail: [ | :a. :b | a ]", 4, 1);
+        // Till its block is through the reason is a cell of that.
+        sweeps("3 _SizeIfFail: [ | :r | zork ]", 1, 1);
+        // What _Perform:With: took out of its vector was no argument of it.
+        sweeps("3 _Perform: 'foo:' With: (_Vector: 1 Fill: 'abc')", 1, 3);
+        sweeps("'rcv' _Perform: 'foo' With: (_Vector: 0 Fill: 0)", 1, 2);
+        sweeps("[ 2 ] _Perform: 'value:' With: (_Vector: 1 Fill: { })", 4, 3);
+        sweeps("(3 foo: 'abc') bar: (4 _Perform: 'foo:' With: (_Vector: 1 Fill: 'def'))", 1, 0);
+        // What unknown:With: would be given is no argument of what was not known; those stay.
+        sweeps("self _Slots: { unknown: s With: v = ( zork: 'abc' ) }. zork: 1", 6, 2);
+        sweeps("self _Slots: { unknown: s With: v = ( zork: 'abc' And: { } ) }. zork", 6, 2);
+        // The value of a ^ is reached while it waits for an ensure: alone.
+        sweeps("self _Slots: { f = ( [ ^ 'abc' ] ) }. f value", 5, 3);
+    }
+
+    private static void mended(String text, int error, long value, long want) {
+        Check c = new Check(0);
+        int p = c.run(text);
+        Check.due(text + ": error", c.world.process(p, 4), error);
+        c.world.sweep();
+        Check.due(text + ": mend", c.world.mend(p, W + value), true);
+        c.world.turn(3000);
+        Check.due(text + ": answer", c.world.answer(p, 0), W + want);
+    }
+
+    private static void mendedBehindSweeps() {
+        mended("9 - (3 _At: 1 IfFail: [ 2 ])", 4, 4, 5);
+        mended("9 - (3 foo: 'abc')", 1, 4, 5);
+        mended("9 - (3 _Perform: 'foo:' With: (_Vector: 1 Fill: 'abc'))", 1, 4, 5);
+        mended("self _Slots: { unknown: s With: v = ( zork: 'abc' ) }. 9 - (zork: 1)", 6, 4, 5);
+        mended("whole _Slots: { unknown: s With: v = ( nil _SizeIfFail: 5 ) }. 9 - (5 zork)", 6, 4, 5);
+        mended("self _Slots: { unknown: s With: v = ( 1 _Sub: (_Perform: 'zork' With: (_Vector: 0 Fill: 0)) ) }. 9 - zork", 6, 4, 12);
+        mended("self _Slots: { f = ( [ ^ 'abc' ] ) }. 9 - f value", 5, 4, 5);
+        mended("self _Slots: { f = ( [ ^ 'abc' ] ) }. 9 - ([ f value. 2 ] value)", 5, 4, 7);
     }
 
     private static void strings() {
