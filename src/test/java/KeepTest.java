@@ -166,6 +166,7 @@ public final class KeepTest {
         mended("9 - (3 foo: 'abc')", 1, 4, 5);
         mended("9 - (3 _Perform: 'foo:' With: (_Vector: 1 Fill: 'abc'))", 1, 4, 5);
         mended("self _Slots: { unknown: s With: v = ( zork: 'abc' ) }. 9 - (zork: 1)", 6, 4, 5);
+        mended("self _Slots: { unknown: s With: v = ( 1 _Sub: (zork: 2) ) }. 9 - (zork: 1)", 6, 4, 12);
         mended("whole _Slots: { unknown: s With: v = ( nil _SizeIfFail: 5 ) }. 9 - (5 zork)", 6, 4, 5);
         mended("self _Slots: { unknown: s With: v = ( 1 _Sub: (_Perform: 'zork' With: (_Vector: 0 Fill: 0)) ) }. 9 - zork", 6, 4, 12);
         mended("self _Slots: { f = ( [ ^ 'abc' ] ) }. 9 - f value", 5, 4, 5);
