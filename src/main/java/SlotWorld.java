@@ -151,9 +151,6 @@ public final class SlotWorld {
     private static final int LITERAL = -2;
     private static final int CARET = -3;
 
-    // Of the message at hand: it was not passed on, what it goes to and its arguments were worked out.
-    private static final int WORKED_OUT = -1;
-
     // What is to be done next for the process at work: a turn does one after the other.
     private static final int STEP = 0;
     private static final int SEND = 1;
@@ -1873,7 +1870,6 @@ public final class SlotWorld {
         int error;
         int reason;
         int erredArguments;
-        int erredDrop;
         long erredTo;
         long told;
         int waitsFor;
@@ -2092,7 +2088,6 @@ public final class SlotWorld {
             if (task.depth == 0) {
                 task.pending = v;
             } else {
-                task.drop(task.erredDrop);
                 task.push(v);
             }
             join(task);
@@ -2713,7 +2708,6 @@ public final class SlotWorld {
         int base;
         int arguments;
         private int to;
-        private int below;
         int reason;
         private int error;
         private long target;
@@ -2804,19 +2798,12 @@ public final class SlotWorld {
             base = program.baseOf(newSymbol);
             arguments = program.partsOf(newSymbol);
             to = NO_TO;
-            below = WORKED_OUT;
         }
 
         private void setLiteral(int what, long self) {
             symbol = what;
             arguments = 0;
             target = self;
-            below = WORKED_OUT;
-        }
-
-        /** How many values go when the message at hand is answered. */
-        private int taken() {
-            return arguments + 1 + Math.max(0, below);
         }
 
         private int message(int at, int where, int what) {
@@ -2976,16 +2963,17 @@ public final class SlotWorld {
             return STEP;
         }
 
-        /** What is at hand errs; when it is mended, as many values as drop go. */
+        /** What is at hand errs. As many values as drop were worked out for it: behind that no sweep reaches them. */
         private int stopWith(int newError, int drop) {
             error = newError;
-            task.erredDrop = drop;
+            task.told = newError == ERROR_TOLD ? task.peek(arguments - 1) : NIL;
+            task.drop(drop);
             return STOP;
         }
 
         int stopMessage(int newError) {
             target = task.peek(arguments);
-            return stopWith(newError, taken());
+            return stopWith(newError, arguments + 1);
         }
 
         /** The process at work is stopped by its error. */
@@ -2994,14 +2982,8 @@ public final class SlotWorld {
             task.reason = error == ERROR_ACT ? reason : 0;
             task.erredArguments = arguments;
             task.erredTo = target;
-            task.told = error == ERROR_TOLD ? task.peek(arguments - 1) : NIL;
             task.erredName.size = 0;
             putSelector(task.erredName);
-            if (below != WORKED_OUT) {
-                // What was passed on is none of what the process works out: a sweep does not reach it.
-                task.drop(arguments + 1);
-                task.erredDrop = below;
-            }
             tasks.leaveRow(task, STOPPED);
             return STEP;
         }
@@ -3046,7 +3028,7 @@ public final class SlotWorld {
             int o = looks.hitObject();
             int i = looks.hitSlot();
             if (heap.kind(o, i) == METHOD) {
-                return begin((int) heap.at(o, i), receiver, o, -1, taken());
+                return begin((int) heap.at(o, i), receiver, o, -1, arguments + 1);
             }
             if (heap.named(o, i) == symbol) {
                 return reply(heap.at(o, i));
@@ -3056,21 +3038,21 @@ public final class SlotWorld {
         }
 
         int reply(long v) {
-            task.drop(taken());
+            task.drop(arguments + 1);
             task.push(v);
             return STEP;
         }
 
         private int deliverToBlock(int block) {
             if (symbol == ENSURE) {
-                return begin(ENSURE_AT, block, BLOCKS, -1, taken());
+                return begin(ENSURE_AT, block, BLOCKS, -1, arguments + 1);
             }
             int body = heap.bodyOf(block);
             if (program.op(body + BODY_ARGUMENTS) != arguments) {
                 return stopMessage(ERROR_COUNT);
             }
             int home = heap.homeOf(block);
-            return begin(body, heap.selfOf(home), heap.holderOf(home), home, taken());
+            return begin(body, heap.selfOf(home), heap.holderOf(home), home, arguments + 1);
         }
 
         /** What nothing was found for goes to unknown:With: , if there is one. */
@@ -3096,16 +3078,11 @@ public final class SlotWorld {
             for (int i = 0; i < arguments; i++) {
                 heap.set(vector, i, task.peek(arguments - 1 - i));
             }
-            int stays = arguments + 1;
-            if (below != WORKED_OUT) {
-                task.drop(arguments + 1);
-                stays = below;
-            }
+            task.drop(arguments + 1);
             task.push(receiver);
             task.push(name);
             task.push(vector);
             set(UNKNOWN);
-            below = stays;
             return USE;
         }
 
@@ -3125,7 +3102,6 @@ public final class SlotWorld {
             task.push(block);
             task.push(told);
             set(VALUE_1);
-            below = 0;
             return SEND;
         }
 
@@ -3143,7 +3119,6 @@ public final class SlotWorld {
             base = setter > 0 ? program.known(performed, 0, setter) : -1;
             arguments = n;
             to = NO_TO;
-            below = 0;
             return SEND;
         }
 

@@ -7,6 +7,7 @@ public final class KeepTest {
         sweeping();
         working();
         behindErrors();
+        behindRoom();
         mendedBehindSweeps();
         strings();
         undoing();
@@ -71,7 +72,7 @@ public final class KeepTest {
         c.world.turn(1);
         Check.due("an error of the whole", c.erred(p), "foo:Bar:Baz:");
         c.world.sweep();
-        Check.due("what erred goes on with is there", c.world.count(0), 15);
+        Check.due("what it went to alone, and the process, its activation", c.world.count(0), 13);
         c.world.mend(p, 0);
         c.world.turn(1);
         c.world.sweep();
@@ -124,12 +125,26 @@ public final class KeepTest {
     }
 
     private static void behindErrors() {
-        // What was worked out for the message that erred stays: it may still be mended.
-        sweeps("3 foo: 'abc'", 1, 0);
-        sweeps("'rcv' foo: 'abc' Bar: [ 2 ]", 1, 0);
-        sweeps("3 _Join: 'abc'", 3, 0);
-        sweeps("3 _Add: [ 2 ]", 3, 0);
-        sweeps("[ | :a | a ] value: 'abc' With: { }", 4, 0);
+        // A message that was sent and erred is worked out: of it the error tells what it went to alone.
+        sweeps("3 foo: 'abc'", 1, 1);
+        sweeps("'rcv' foo: 'abc' Bar: [ 2 ]", 1, 2);
+        sweeps("'rcv' foo", 1, 0);
+        sweeps("resend.foo: 'abc'", 1, 1);
+        sweeps("{ a* = { x = 1 }. b* = { x = 2 } } x", 2, 2);
+        sweeps("{ a* = { x: q = ( 1 ) }. b* = { x: q = ( 2 ) } } x: 'abc'", 2, 3);
+        sweeps("[ | :a | a ] value: 'abc' With: { }", 4, 2);
+        sweeps("nil _Slots: { f: a = ( f: { } ) }. nil f: 'abc'", 6, 2);
+        // An act that has failed without IfFail: is done, too, whatever its error is.
+        sweeps("5 _Perform: '_Add:' With: (self _Vector: 1 Fill: 4)", 3, 2);
+        sweeps("3 _Join: 'abc'", 3, 1);
+        sweeps("3 _Add: [ 2 ]", 3, 1);
+        sweeps("'rcv' _Add: 'abc'", 3, 1);
+        sweeps("{ } _Peek: 'abc'", 3, 1);
+        sweeps("'rcv' _Foo: 'abc' Bar: { }", 3, 2);
+        sweeps("'rcv' _Error: 'abc'", 8, 0);
+        // What other messages have so far is still worked out.
+        sweeps("'rcv' foo: 'abc' Bar: ([ 2 ] _Join: 'def')", 3, 1);
+        sweeps("{ a = 'abc'. b <- ('rcv' zork: 'def') }", 1, 1);
         // An act that has failed to its block is done, and nothing names the reason's string.
         sweeps("3 _At: 1 IfFail: [ 2 ]", 4, 1);
         sweeps("3 _At: 'abc' IfFail: [ 2 ]", 4, 2);
@@ -143,12 +158,50 @@ public final class KeepTest {
         sweeps("3 _Perform: 'foo:' With: (_Vector: 1 Fill: 'abc')", 1, 3);
         sweeps("'rcv' _Perform: 'foo' With: (_Vector: 0 Fill: 0)", 1, 2);
         sweeps("[ 2 ] _Perform: 'value:' With: (_Vector: 1 Fill: { })", 4, 3);
-        sweeps("(3 foo: 'abc') bar: (4 _Perform: 'foo:' With: (_Vector: 1 Fill: 'def'))", 1, 0);
-        // What unknown:With: would be given is no argument of what was not known; those stay.
+        sweeps("(3 foo: 'abc') bar: (4 _Perform: 'foo:' With: (_Vector: 1 Fill: 'def'))", 1, 1);
+        // What unknown:With: would be given, too.
         sweeps("self _Slots: { unknown: s With: v = ( zork: 'abc' ) }. zork: 1", 6, 2);
-        sweeps("self _Slots: { unknown: s With: v = ( zork: 'abc' And: { } ) }. zork", 6, 2);
+        sweeps("self _Slots: { unknown: s With: v = ( zork: 'abc' And: { } ) }. zork", 6, 3);
         // The value of a ^ is reached while it waits for an ensure: alone.
         sweeps("self _Slots: { f = ( [ ^ 'abc' ] ) }. f value", 5, 3);
+    }
+
+    /** Held processes take what room there is, but for so many objects. */
+    private static Check almostFull(String ahead, int room) {
+        Check c = new Check(100);
+        c.run(ahead);
+        c.world.sweep();
+        for (int k = 0; k < 100 && c.world.count(0) < 100 - room; k++) {
+            c.world.hold(c.run("3"), true);
+            c.world.sweep();
+        }
+        return c;
+    }
+
+    private static void sweepsFull(String ahead, int room, String text, String erred, int went) {
+        Check c = almostFull(ahead, room);
+        Check.due(text + ": room", 100 - c.world.count(0), room);
+        int p = c.run(text);
+        Check.due(text + ": error", c.world.process(p, 4), 7);
+        Check.due(text + ": selector", c.erred(p), erred);
+        Check.due(text + ": went", c.world.sweep(), went);
+        Check.due(text + ": mend", c.world.mend(p, W + 4), true);
+        c.world.turn(100);
+        Check.due(text + ": answer", c.world.answer(p, 0), W + 4);
+    }
+
+    private static void behindRoom() {
+        sweepsFull("whole _Slots: { f: a = ( a ) }", 3, "3 f: 'abc'", "f:", 1);
+        sweepsFull("3", 3, "_Vector: 1 Fill: 'abc'", "_Vector:Fill:", 1);
+        sweepsFull("3", 3, "{ } _Copy", "_Copy", 0);
+        sweepsFull("3", 3, "{ a = 'abc'. b = 3 }", "", 1);
+        sweepsFull("3", 4, "{ a = 'abc'. b = 'def' }", "", 2);
+        sweepsFull("3", 2, "'abc'", "", 0);
+        sweepsFull("3", 4, "3 _Add: 'abc' IfFail: [ | :r | r ]", "_Add:IfFail:", 2);
+        sweepsFull("3", 4, "3 _Add: nil IfFail: [ | :r | r ]", "value:", 1);
+        sweepsFull("whole _Slots: { unknown: s With: v = ( v ) }", 3, "3 f: 'abc'", "f:", 1);
+        sweepsFull("whole _Slots: { unknown: s With: v = ( v ) }", 4, "3 f: 'abc'", "f:", 2);
+        sweepsFull("whole _Slots: { unknown: s With: v = ( v ) }", 5, "3 f: 'abc'", "unknown:With:", 3);
     }
 
     private static void mended(String text, int error, long value, long want) {
@@ -164,6 +217,12 @@ public final class KeepTest {
     private static void mendedBehindSweeps() {
         mended("9 - (3 _At: 1 IfFail: [ 2 ])", 4, 4, 5);
         mended("9 - (3 foo: 'abc')", 1, 4, 5);
+        mended("9 - (3 foo: 'abc' Bar: 7 Baz: [ 2 ])", 1, 4, 5);
+        mended("9 - (8 _Sub: ('rcv' _Add: 'abc'))", 3, 4, 5);
+        mended("9 _Sub: (8 _Sub: ('rcv' _Error: 'abc'))", 8, 4, 5);
+        mended("9 - (5 _Perform: '_Add:' With: (self _Vector: 1 Fill: 4))", 3, 4, 5);
+        mended("9 - ([ 2 ] value: 'abc')", 4, 4, 5);
+        mended("nil _Slots: { f: a = ( 1 _Sub: (f: { }) ) }. 9 - (nil f: 'abc')", 6, 4, 12);
         mended("9 - (3 _Perform: 'foo:' With: (_Vector: 1 Fill: 'abc'))", 1, 4, 5);
         mended("self _Slots: { unknown: s With: v = ( zork: 'abc' ) }. 9 - (zork: 1)", 6, 4, 5);
         mended("self _Slots: { unknown: s With: v = ( 1 _Sub: (zork: 2) ) }. 9 - (zork: 1)", 6, 4, 12);

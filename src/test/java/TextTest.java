@@ -83,6 +83,7 @@ public final class TextTest {
         Check full = new Check(100);
         int p = full.run("self _Slots: { k <- 0. c = { n <- 0 } }. [ true ] whileTrue: [ k: (c _Copy n: k) ]");
         Check.due("no room", full.world.process(p, 4), 7);
+        Check.due("what was worked out for what erred gives room", full.tell("3"), 40);
         int words = full.world.count(7);
         Check.due("without room for a process", full.tell("3 + 4"), -3);
         Check.due("it was read", full.world.count(7), words + 3);
