@@ -3,17 +3,25 @@ final class Check {
     static final long WHOLE = 1L << 40;
     private static int wrong = 0;
     private static int done = 0;
+    private static int sentences = 0;
+    private static String sentence = "";
     final SlotWorld world;
 
     Check(int objects) {
         world = new SlotWorld(objects);
     }
 
+    /** The answers that follow are what this sentence of the document asks for. */
+    static void sentence(String told) {
+        sentence = told + ": ";
+        sentences++;
+    }
+
     static void due(String what, long got, long want) {
         done++;
         if (got != want) {
             wrong++;
-            System.out.println(brief(what) + " answered " + got + ", due is " + want);
+            System.out.println(sentence + brief(what) + " answered " + got + ", due is " + want);
         }
     }
 
@@ -21,7 +29,7 @@ final class Check {
         done++;
         if (!got.equals(want)) {
             wrong++;
-            System.out.println(brief(what) + " answered <" + got + ">, due is <" + want + ">");
+            System.out.println(sentence + brief(what) + " answered <" + got + ">, due is <" + want + ">");
         }
     }
 
@@ -34,10 +42,32 @@ final class Check {
     }
 
     static void end(String name) {
-        System.out.println(name + ": " + (done - wrong) + " answers as due, " + wrong + " not");
+        String told = sentences == 0 ? "" : sentences + " sentences, ";
+        System.out.println(name + ": " + told + (done - wrong) + " answers as due, " + wrong + " not");
         if (wrong != 0) {
             System.exit(1);
         }
+    }
+
+    /** A world of 100 objects that is full but for so many: what takes the room is held. */
+    static Check almostFull(String ahead, int room) {
+        Check c = new Check(100);
+        c.run(ahead);
+        c.world.sweep();
+        int chain = 100 - 20 - room - c.world.count(0);
+        c.world.hold((int) c.answer("| k | 1 to: " + chain + " Do: [ | :i | k: ({ n <- 0 } n: k) ]. k"), true);
+        c.world.sweep();
+        for (int k = 0; k < 20 && c.world.count(0) < 100 - room; k++) {
+            boolean last = c.world.count(0) == 98 - room;
+            c.world.hold(c.run("3"), true);
+            // The last process is held with its activation: the one behind it would not have both.
+            for (int o = 10; o < 100 && last; o++) {
+                c.world.hold(o, true);
+            }
+            c.world.sweep();
+        }
+        due("room behind " + ahead, 100 - c.world.count(0), room);
+        return c;
     }
 
     /** Feeds a text; what is missing to a multiple of 20 bytes is filled up with 0. */
@@ -105,6 +135,22 @@ final class Check {
         due(text + ": went to", world.answer(p, 1), to);
         due(text + ": arguments", world.process(p, 6), arguments);
         return p;
+    }
+
+    /** A text is stopped by this error of this selector; then it is mended till it has ended. */
+    void errs(String text, int error, String selector, int arguments) {
+        int p = run(text);
+        due(text + ": error", world.process(p, 4), error);
+        due(text + ": selector", erred(p), selector);
+        due(text + ": arguments", world.process(p, 6), arguments);
+        finish(p);
+    }
+
+    /** Mends a process with nil till it has ended. */
+    void finish(int p) {
+        for (int k = 0; k < 100 && world.mend(p, 0); k++) {
+            world.turn(3000);
+        }
     }
 
     String erred(int p) {

@@ -166,21 +166,8 @@ public final class KeepTest {
         sweeps("self _Slots: { f = ( [ ^ 'abc' ] ) }. f value", 5, 3);
     }
 
-    /** Held processes take what room there is, but for so many objects. */
-    private static Check almostFull(String ahead, int room) {
-        Check c = new Check(100);
-        c.run(ahead);
-        c.world.sweep();
-        for (int k = 0; k < 100 && c.world.count(0) < 100 - room; k++) {
-            c.world.hold(c.run("3"), true);
-            c.world.sweep();
-        }
-        return c;
-    }
-
     private static void sweepsFull(String ahead, int room, String text, String erred, int went) {
-        Check c = almostFull(ahead, room);
-        Check.due(text + ": room", 100 - c.world.count(0), room);
+        Check c = Check.almostFull(ahead, room);
         int p = c.run(text);
         Check.due(text + ": error", c.world.process(p, 4), 7);
         Check.due(text + ": selector", c.erred(p), erred);
