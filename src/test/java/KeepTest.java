@@ -184,6 +184,8 @@ public final class KeepTest {
         sweepsFull("3", 3, "{ a = 'abc'. b = 3 }", "", 1);
         sweepsFull("3", 4, "{ a = 'abc'. b = 'def' }", "", 2);
         sweepsFull("3", 2, "'abc'", "", 0);
+        sweepsFull("self _Slots: { qq = { aa. bb } }", 3, "qq _Names", "_Names", 1);
+        sweepsFull("self _Slots: { qq = { aa. bb } }", 4, "qq _Names", "_Names", 2);
         sweepsFull("3", 4, "3 _Add: 'abc' IfFail: [ | :r | r ]", "_Add:IfFail:", 2);
         sweepsFull("3", 4, "3 _Add: nil IfFail: [ | :r | r ]", "value:", 1);
         sweepsFull("whole _Slots: { unknown: s With: v = ( v ) }", 3, "3 f: 'abc'", "f:", 1);
