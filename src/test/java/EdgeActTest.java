@@ -331,6 +331,15 @@ public final class EdgeActTest {
         Check.due("units", c.world.process(p, 1), 10);
         Check.due("no new activation", c.world.count(11), made + 1);
         Check.due("its cell", c.world.value(c.world.frame(p, 0, 0), 0), W + 5);
+        // What it was working out is left.
+        Check d = new Check(300);
+        p = d.tell("'abc' foo: 'def' Bar: _Restart");
+        d.world.turn(1);
+        Check.due("both strings go", d.world.sweep(), 2);
+        for (int k = 0; k < 5; k++) {
+            Check.due("units", d.world.turn(3000), 3000);
+        }
+        Check.due("one activation", d.world.process(p, 2), 1);
     }
 
     private static void telling() {

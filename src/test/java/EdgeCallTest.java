@@ -256,7 +256,7 @@ public final class EdgeCallTest {
             Check.due("slot", d.world.sender(0, 1), 10);
         }
         String[] none = {"3", "zip: 3", "| zip | zip", "| zip | zip: 3", "'zip'", "zip.zap", "{ zip = 3 }", "{ zip = ( 3 ) }", "{ x = ( zip ) }", "zap: 1 Zip: 2",
-            "[ | :zip | zip ]"};
+            "[ | :zip | zip ]", "{ x = ( 3 zip ) }", "{ xy = ( [ 3 zip ] value ). z = ( zip ) }", "{ k: a = ( | b | { l: c = ( zip ) } ) }"};
         for (String body : none) {
             Check d = new Check(100);
             d.run("self _Slots: { m = ( " + body + " ) }");
@@ -380,6 +380,20 @@ public final class EdgeCallTest {
         Check.due("slots of lobby", c.world.object(3, 1), 10);
         Check.due("none", c.world.undo(), false);
         Check.due("kept", c.world.count(6), 0);
+        for (String change : new String[] {"_Define: { }", "_Slots: { e. f. g. h: x = ( 1 ). i }", "_Take: 'g'", "_Become: { j. k. l. m. n }"}) {
+            Check d = new Check(300);
+            d.run("self _Slots: { a = { e = 1. f <- 'x'. g = ( 3 ). h* = lobby. i* <- 4 } }");
+            int o = at(d, 10);
+            d.run("a " + change);
+            Check.due(change, d.world.undo(), true);
+            int[] kinds = {0, 1, 2, 4, 5};
+            for (int i = 0; i < 5; i++) {
+                Check.due("kind behind " + change, d.world.slot(o, i), kinds[i]);
+                Check.due("selector behind " + change, d.selector(o, i), "" + (char) ('e' + i));
+            }
+            d.givesWhole("a g", 3);
+            d.givesWhole("a i", 4);
+        }
         Check.sentence("undo: of _Become: both");
         c.run("self _Slots: { a = { x <- 1 }. b = { y <- 2. z = 3 } }. a _Become: b. a y: 9");
         int b = at(c, 11);
@@ -395,7 +409,7 @@ public final class EdgeCallTest {
     }
 
     /** Lobby gets objects with strings: each slot of p has its string's bytes and ten. */
-    private static Check eightThousand() {
+    private static Check withLetters(int most) {
         Check c = new Check(300);
         for (int k = 0; k < 4; k++) {
             StringBuilder text = new StringBuilder("self _Slots: { o" + k + " = { ");
@@ -405,18 +419,18 @@ public final class EdgeCallTest {
             c.run(text + "} }");
         }
         c.run("self _Slots: { p = { x = 1 } }");
-        int rest = 8000 - c.world.write();
+        int rest = most - c.world.write();
         for (int k = 10; k < 34 && rest >= 10; k++) {
             int bytes = rest <= 70 ? rest - 10 : rest < 80 ? 40 : 50;
             c.run("p _Slots: { t" + k + " = '" + "c".repeat(bytes) + "' }");
-            rest = 8000 - c.world.write();
+            rest = most - c.world.write();
         }
         return c;
     }
 
     private static void write() {
         Check.sentence("write: how many bytes; -1 if more than 8000 (the latest ones stay)");
-        Check c = eightThousand();
+        Check c = withLetters(8000);
         Check.due("8000", c.world.write(), 8000);
         Check.due("bytes", c.world.count(8), 8000);
         c.run("p _Slots: { x = 12 }");
@@ -429,6 +443,13 @@ public final class EdgeCallTest {
         c.world.undo();
         c.world.undo();
         Check.due("8000 again", c.world.write(), 8000);
+        // Lobby's slot z takes 26 bytes for the object and 7 for the slot ahead of the last line, and 16 there.
+        Check d = withLetters(8000 - 26 - 7);
+        d.run("self _Slots: { z = { } }");
+        Check.due("8000 ahead of the last line", d.world.write(), -1);
+        Check e = withLetters(8000 - 26 - 7 - 16);
+        e.run("self _Slots: { z = { } }");
+        Check.due("8000 with it", e.world.write(), 8000);
     }
 
     private static void lost() {
@@ -464,6 +485,20 @@ public final class EdgeCallTest {
         lines("self _Slots: { a = { x <- -2147483647 - 1. y = 0. z = 2147483647 } }", "a _Define: { x <- -2147483648. y = 0. z = 2147483647 }.");
         lines("self _Slots: { a = { x = ''. y = 'q\\n\\'\\\\ \"' } }", "a _Define: { x = ''. y = 'q\\n\\'\\\\ \"' }.");
         lines("self _Define: { }", "self _Define: { }.");
+        Check c = new Check(100);
+        c.run("self _Slots: { k <- nil }");
+        c.world.undo();
+        c.world.sweep();
+        c.run("self _Slots: { k <- nil }");
+        c.world.sweep();
+        c.tell("3");
+        c.tell("lobby. k: { }");
+        c.world.turn(1);
+        c.world.sweep();
+        c.world.turn(10);
+        Check.due("object 10 is none of 0 to 9", c.world.value(3, 10), 10);
+        c.world.write();
+        Check.due("it is written", c.written().startsWith("self _Slots: { k = { } }.\n"), true);
         Check.sentence("A WALK from lobby meets plain objects: each when it is met first");
         lines("self _Slots: { a = { }. b <- nil }. a _Slots: { x = { } }. b: a x", "self _Slots: { b = { } }.", "a _Define: { x = b }.", "b _Define: { }.");
         lines("self _Slots: { a = { m <- nil } }. a m: a", "a _Define: { m <- a }.");

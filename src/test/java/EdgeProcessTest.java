@@ -79,6 +79,19 @@ public final class EdgeProcessTest {
         Check.due("ends ahead of the other", one.world.turn(1), 1);
         Check.due("ended", one.world.process(p, 0), 2);
         Check.due("the other", one.world.process(q, 1), 1);
+        Check.sentence("Or it waits, ends or is stopped: the next one has a go of its own");
+        for (String ahead : new String[] {"zork", "(_Semaphore: 0) _Wait", "lobby", "nil _Div: 0", "[ ^ 3 ] _Spawn _Value", "lobby lobby lobby"}) {
+            Check c = new Check(100);
+            c.tell(ahead);
+            int a = c.tell("self" + " lobby".repeat(12));
+            c.tell("self" + " lobby".repeat(12));
+            for (int k = 0; k < 20 && c.world.process(a, 1) < 9; k++) {
+                c.world.turn(1);
+            }
+            Check.due("nine units: the first", c.world.process(a, 3), 0);
+            c.world.turn(1);
+            Check.due("ten units: not the first", c.world.process(a, 3) > 0, true);
+        }
     }
 
     private static void yields() {
@@ -277,6 +290,12 @@ public final class EdgeProcessTest {
         d.run("self _Slots: { }");
         d.world.sweep();
         Check.due("no longer", d.world.count(0), 10);
+        Check n = new Check(300);
+        n.run("nil _Define: { s = 'abc' }. nil _Define: { }");
+        n.world.sweep();
+        Check.due("of nil, too", n.world.count(0), 11);
+        n.world.undo();
+        Check.due("its slot again", n.string(n.world.value(0, 0)), "abc");
         Check.sentence("SWEEP: of a plain one the values; of a vector the elements");
         Check e = new Check(300);
         e.run("self _Slots: { a <- { x = 'one'. y <- (_Vector: 2 Fill: 'two'). m = ( 'three' ) } }. a m");
@@ -312,6 +331,42 @@ public final class EdgeProcessTest {
         p = c.run("(_Semaphore: 0) _Wait");
         Check.due("who waits has let the semaphore go", c.world.sweep(), 1);
         Check.due("waits for ever", c.world.process(p, 0), 1);
+        Check.sentence("SWEEP: an answer that a process was given by mend()");
+        Check g = Check.almostFull("3", 1);
+        int given = g.world.process(10, 0) >= 0 ? 10 : 11;
+        int text = g.run("3");
+        Check.due("ROOM", g.world.process(text, 4), 7);
+        Check.due("mend", g.world.mend(text, given), true);
+        g.world.hold(given, false);
+        Check.due("stays", g.world.sweep(), 0);
+        g.world.turn(1);
+        Check.due("its answer", g.world.answer(text, 0), given);
+        Check.due("both go", g.world.sweep(), 2);
+        Check.sentence("SWEEP: what is not reached goes, whatever had its number ahead of it");
+        Check h = new Check(100);
+        Check.due("string 12, vector 13", h.answer("_Vector: 1 Fill: 'abc'"), 13);
+        Check.due("all go", h.world.sweep(), 4);
+        h.run("zork");
+        Check.due("a process", h.run("3"), 12);
+        h.world.hold(12, true);
+        Check.due("13 goes", h.world.sweep(), 1);
+        Check.due("a process that is not ended", h.run("zork"), 13);
+        h.world.hold(12, false);
+        Check.due("12 goes", h.world.sweep(), 1);
+        Check.sentence("SWEEP: of an activation self, holder, cells, and, of a block's, the home");
+        Check f = new Check(300);
+        int m = f.run("| o | o: { p* <- { q* = { x = 'deep' }. m = ( p: 0. _Error: 1. resend.x ) } }. o m");
+        Check.due("told", f.world.process(m, 4), 8);
+        f.world.sweep();
+        Check.due("process, two activations, o, holder, its parent, string", f.world.count(0), 10 + 7);
+        f.world.mend(m, 0);
+        f.world.turn(10);
+        Check.due("the holder's parent", f.string(f.world.answer(m, 0)), "deep");
+        f.world.sweep();
+        m = f.run("| b | b: [ | c | c: 'in'. [ zork. c ] ] value. b value");
+        f.world.sweep();
+        f.finish(m);
+        Check.due("a cell of its home", f.string(f.world.answer(m, 0)), "in");
         Check.sentence("SWEEP: its block ahead of that (not if it is stopped)");
         Check d = Check.almostFull("3", 4);
         p = d.tell("[ 3 ] _Spawn. _Vector: 0 Fill: 0");

@@ -61,6 +61,12 @@ public final class EdgeRunTest {
         Check none = Check.almostFull("3", 0);
         Check.due("no room for a process", none.tell("3"), -3);
         Check.due("none", none.world.count(4), 0);
+        Check.sentence("Of literals: no selector, no arguments, the self at hand");
+        for (String literal : new String[] {"[ ]", "'abc'", "{ }", "{ x = lobby }", "4 + [ ]"}) {
+            Check c = Check.almostFull("self _Slots: { o = { parent* = lobby. m = ( 3 _Add: 4. " + literal + " ) } }", 3);
+            int o = (int) c.world.value(3, 10);
+            c.stops("o m", 7, "", o, 0);
+        }
     }
 
     private static void likeStrings() {
@@ -80,6 +86,14 @@ public final class EdgeRunTest {
         Check.due("one that nothing reaches lives, too", d.world.object((int) gone, 0), 1);
         d.world.sweep();
         Check.due("no longer", d.world.object((int) gone, 0), -1);
+        Check many = new Check(400);
+        many.run("self _Slots: { v <- nil. w <- nil. x <- nil }. v: (_Vector: 60 Fill: 0). w: v _Copy. x: v _Copy. "
+            + "0 to: 59 Do: [ | :i | v at: i Put: i _Text. w at: i Put: (i * 7919) _Text. x at: i Put: ('q' , i _Text) ]");
+        String same = "| n <- 0 | 0 to: 59 Do: [ | :i | (v at: i) = i _Text ifTrue: [ n: n + 1 ]. (w at: i) = (i * 7919) _Text ifTrue: [ n: n + 1 ]. "
+            + "(x at: i) = ('q' , i _Text) ifTrue: [ n: n + 1 ] ]. n";
+        many.givesWhole(same, 180);
+        many.world.sweep();
+        many.givesWhole(same, 180);
     }
 
     private static void atFirst() {
@@ -147,6 +161,8 @@ public final class EdgeRunTest {
         c.errs("{ x <- 1 } x: 2 Y: 3", 1, "x:Y:", 2);
         c.run("self _Slots: { base = { x <- 1 } }. self _Slots: { kid = { p* = base } }. kid x: 8");
         c.givesWhole("base x", 8);
+        c.errs("zip: 3", 1, "zip:", 1);
+        c.givesWhole("({ zip <- 1 } zip: 2) zip", 2);
     }
 
     private static void bodies() {
@@ -311,6 +327,13 @@ public final class EdgeRunTest {
         c.stops("t value", 5, "^", 3, 0);
         c.givesWhole("[ ^ 5 ] value. 6", 5);
         c.givesWhole("{ x = [ ^ 5 ] value } x + 1", 6);
+        Check.sentence("Activations ahead of that are left, with what they were working out");
+        c.run("self _Slots: { f = ( 1 + (2 - ([ 3 _Sub: ([ ^ 4 ] value) ] value)) ). g: b = ( 1 + (2 - b value) ) }");
+        c.givesWhole("10 - f", 6);
+        c.givesWhole("10 - ([ 20 - (30 + f) ] value)", 24);
+        c.run("self _Slots: { h = ( 5 - (g: [ ^ 4 ]) ) }");
+        c.givesWhole("10 - h", 6);
+        c.givesWhole("{ a = 1. x = [ 1 + (2 - ([ ^ 5 ] value)) ] value. y = 7 } x", 5);
     }
 
     private static void ensures() {
@@ -330,6 +353,10 @@ public final class EdgeRunTest {
         Check.due("one within", c.fetched(), "c");
         c.givesWhole("[ [ ^ 1 ] ensure: [ 'a' _Print ] ] ensure: [ 'b' _Print ]. 5", 1);
         Check.due("the latest first", c.fetched(), "ab");
+        c.givesWhole("9 - ([ 3 ] ensure: [ 4 ])", 6);
+        c.givesWhole("9 - ([ 8 - ([ 3 ] ensure: [ 4 ]) ] ensure: [ 7 - ([ 5 ] ensure: [ 6 ]) ])", 4);
+        c.run("self _Slots: { o = { up* = { foo = 5 }. k = ( [ resend.foo ] ensure: [ up.foo ] ) } }");
+        c.givesWhole("o k", 5);
         int units = c.world.count(3);
         c.run("[ 1 ] ensure: [ 2 ]");
         Check.due("what it passes on is no unit", c.world.count(3), units + 1);
@@ -396,6 +423,22 @@ public final class EdgeRunTest {
         c.run("v _At: 0 Put: { r: n = ( [ 5 ] ensure: 3 ) }");
         c.errs("r: 56", 6, "value", 0);
         c.errs("r: 57", 6, "ensure:", 1);
+        // Activations that each work out five messages with eight arguments.
+        Check wide = new Check(300);
+        wide.run(DEEP);
+        wide.run("self _Slots: { a: a B: b C: c D: d E: e F: f G: g H: h = ( | s <- -28 | s: (s _Add: a). s: (s _Add: b). s: (s _Add: c). "
+            + "s: (s _Add: d). s: (s _Add: e). s: (s _Add: f). s: (s _Add: g). s _Add: h ) }");
+        wide.run("v _At: 0 Put: { parent* = lobby. r: n = ( _Error: 4 ) }. self _Slots: { r: n = ( "
+            + "a: 1 B: 2 C: 3 D: 4 E: 5 F: 6 G: 7 H: ".repeat(5) + "((v _At: n) r: (n _Sub: 1)) ) }");
+        p = wide.run("r: 57");
+        Check.due("sixty", wide.world.process(p, 2), 60);
+        Check.due("told", wide.world.process(p, 4), 8);
+        wide.world.sweep();
+        wide.world.mend(p, W + 5);
+        for (int k = 0; k < 10; k++) {
+            wide.world.turn(3000);
+        }
+        Check.due("all of them", wide.world.answer(p, 0), W + 5);
         Check full = Check.almostFull(DEEP, 40);
         Check.due("room for 39 activations", full.world.process(full.run("r: 37"), 0), 2);
         full.world.sweep();
@@ -617,6 +660,16 @@ public final class EdgeRunTest {
         Check.due("mend", one.world.mend(text, W + 8), true);
         Check.due("no unit", one.world.turn(1), 0);
         Check.due("a text", one.world.answer(text, 0), W + 8);
+        Check spawns = Check.almostFull("3", 4);
+        int maker = spawns.run("[ 3 ] _Spawn. zork");
+        int spawned = -1;
+        for (int o = 10; o < 100; o++) {
+            spawned = o != maker && spawns.world.process(o, 0) == 3 ? o : spawned;
+        }
+        Check.due("ROOM", spawns.world.process(spawned, 4), 7);
+        Check.due("mend", spawns.world.mend(spawned, W + 8), true);
+        Check.due("no unit", spawns.world.turn(10), 0);
+        Check.due("a block", spawns.world.answer(spawned, 0), W + 8);
         Check two = Check.almostFull("3", 2);
         for (String made : new String[] {"[ ]", "'abc'", "{ }", "_Vector: 0 Fill: 0", "3 + 4", "{ } _Copy", "[ 3 ] _Spawn", "5 _Text"}) {
             text = two.run(made);

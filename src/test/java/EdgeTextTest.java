@@ -129,6 +129,9 @@ public final class EdgeTextTest {
         faults("p._x", 1, 2);
         fine("p._Copy");
         faults("3 p.x", 1, 2);
+        fine("p.{ }");
+        fine("p.[ ]");
+        faults("p.|", 1, 2);
         faults("p.x y.z", 1, 4);
         faults("p.y.z", 1, 2);
     }
@@ -340,6 +343,17 @@ public final class EdgeTextTest {
         fine("(".repeat(11) + "a: 1 B: 2 C: 3" + ")".repeat(11));
         fine("(".repeat(11) + "a: 1" + ")".repeat(11) + " b: " + "(".repeat(10) + "a: 1" + ")".repeat(10));
         faults("((((((((((((#", 1, 12);
+        // Twelve objects with 24 slots each, and twelve messages with selectors of 60 bytes.
+        StringBuilder objects = new StringBuilder("5");
+        StringBuilder keys = new StringBuilder("6");
+        for (int k = 0; k < 12; k++) {
+            objects.insert(0, "{ " + list(23, "", ". ") + "y <- ").append(" }");
+            keys.insert(0, "abcdefghijklmno: 1 Abcdefghijklmn: 2 Bbcdefghijklm: 3 Cbcdefghijklm: ");
+        }
+        new Check(100).givesWhole(objects + " y".repeat(12), 5);
+        Check c = new Check(100);
+        c.run("self _Slots: { abcdefghijklmno: a Abcdefghijklmn: b Bbcdefghijklm: c Cbcdefghijklm: d = ( d ) }");
+        c.givesWhole(keys.toString(), 6);
     }
 
     private static void tooManyCells() {
@@ -524,6 +538,12 @@ public final class EdgeTextTest {
         faults("1.".repeat(2000) + ")", 1, 4000);
         faults("1.".repeat(2000) + "#", 1, 4000);
         faults("1.".repeat(1999) + "1+", 1, 4000);
+        Check.sentence("A text behind one with a fault is read as any other");
+        Check c = new Check(100);
+        for (int k = 0; k < 40; k++) {
+            Check.due("with a fault", c.tell("{ k: a B: b 3"), -1);
+        }
+        c.givesWhole("| a <- 3 | { k: a B: b = ( a ) } k: 4 B: [ [ a ] value ] value", 4);
     }
 
     /** How many objects a world holds: one text fills it up with a chain that lobby has. */
